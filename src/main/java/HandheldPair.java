@@ -434,6 +434,12 @@ public final class HandheldPair {
             askForFallenKeys(before);
         }
 
+        void chooseHalves(int v) {
+            int before = keyBits();
+            chosenHalves = v;
+            askForFallenKeys(before);
+        }
+
         void askForFallenKeys(int before) {
             if (on && (before & ~keyBits()) != 0) {
                 processor.asked |= ASK_KEYS;
@@ -585,9 +591,7 @@ public final class HandheldPair {
         void writeFirstRegister(int low, int v) {
             switch (low) {
                 case 0x00:
-                    int before = keyBits();
-                    chosenHalves = v & 0x30;
-                    askForFallenKeys(before);
+                    chooseHalves(v & 0x30);
                     break;
                 case 0x01:
                     cable.sb = v;
@@ -679,8 +683,7 @@ public final class HandheldPair {
 
         static final int C = 1;
         static final int HL = 2;
-        static final int H = 4;
-        static final int L = 5;
+        static final int SP = 3;
         static final int F = 6;
         static final int A = 7;
         static final int IN_MEMORY = 6;
@@ -797,6 +800,9 @@ public final class HandheldPair {
             switch (part) {
                 case '+':
                     return IDLE;
+                case '!':
+                    act();
+                    return INSIDE;
                 case 'o': case 'n': case 'N':
                     address = pc;
                     movePc();
@@ -866,7 +872,6 @@ public final class HandheldPair {
 
         int workInside() {
             switch (part) {
-                case '!': act(); break;
                 case '#': actOnBits(); break;
                 case '?': endUnless(condition()); break;
                 case 'J': pc = word; break;
@@ -1059,14 +1064,7 @@ public final class HandheldPair {
 
         void actLast(int y, int z) {
             switch (z) {
-                case 0:
-                    int sum = spPlusData();
-                    if (y == 5) {
-                        sp = sum;
-                    } else {
-                        setPair(HL, sum);
-                    }
-                    break;
+                case 0: setPair(y == 5 ? SP : HL, spPlusData()); break;
                 case 1:
                     if ((y & 1) == 0) {
                         setStackedPair(y >> 1, word);
@@ -1106,11 +1104,11 @@ public final class HandheldPair {
         }
 
         int pair(int p) {
-            return p == 3 ? sp : r[2 * p] << 8 | r[2 * p + 1];
+            return p == SP ? sp : r[2 * p] << 8 | r[2 * p + 1];
         }
 
         void setPair(int p, int v) {
-            if (p == 3) {
+            if (p == SP) {
                 sp = v & 0xFFFF;
             } else {
                 r[2 * p] = (v >> 8) & 255;
@@ -1956,16 +1954,18 @@ public final class HandheldPair {
 
         void writeRegister(int which, int v) {
             switch (which) {
-                case LCDC:
-                    boolean wasOn = (r[LCDC] & 128) != 0;
-                    r[LCDC] = v;
-                    if (wasOn && (v & 128) == 0) {
-                        rest();
-                    }
-                    break;
+                case LCDC: switchTo(v); break;
                 case STAT: r[STAT] = v & 0x78; break;
                 case LY: break;
                 default: r[which] = v; break;
+            }
+        }
+
+        void switchTo(int lcdc) {
+            boolean goesOff = (r[LCDC] & 128) != 0 && (lcdc & 128) == 0;
+            r[LCDC] = lcdc;
+            if (goesOff) {
+                rest();
             }
         }
 
@@ -2381,16 +2381,12 @@ public final class HandheldPair {
             sweepCounts = from.sweepCounts;
         }
 
-        int frequency() {
-            return (r[4] & 7) << 8 | r[3];
-        }
-
         int span() {
             if (which == NOISING) {
                 int base = (r[3] & 7) == 0 ? 8 : 16 * (r[3] & 7);
                 return base << (r[3] >> 4);
             }
-            return (which == WAVING ? 2 : 4) * (2048 - frequency());
+            return (which == WAVING ? 2 : 4) * (2048 - ((r[4] & 7) << 8 | r[3]));
         }
 
         void advance(int dots) {
@@ -2467,7 +2463,7 @@ public final class HandheldPair {
             if (which == NOISING) {
                 noise = 0x7FFF;
             } else if (which == SWEEPING) {
-                shadow = frequency();
+                shadow = (r[4] & 7) << 8 | r[3];
                 sweepCount = sweepPace();
                 sweepCounts = (r[0] & 0x77) != 0;
                 if ((r[0] & 7) != 0) {
