@@ -108,6 +108,12 @@ final class Rom {
         return x.insert(c);
     }
 
+    /** The loop that copies n bytes from one place to another, n above 0. */
+    Rom copyLoop(int from, int to, int n) {
+        return code(0x21, to, to >> 8, 0x11, from, from >> 8, 0x01, n, n >> 8)
+            .code(0x1A, 0x22, 0x13, 0x0B, 0x78, 0xB1, 0x20, 0xF8);
+    }
+
     /** A new pair whose console 0 has this cartridge. */
     HandheldPair start() {
         HandheldPair x = new HandheldPair();
