@@ -3,6 +3,9 @@ public final class StatesTest {
     public static void main(String[] args) {
         wrongInputs();
         comesBack();
+        comesBackAtAnyTime();
+        latchComesBack();
+        powerMakesAllNew();
         twoStates();
         offComesBack();
         asideStays();
@@ -36,6 +39,10 @@ public final class StatesTest {
     }
 
     private static long fingerprint(HandheldPair x) {
+        return fingerprint(x, true);
+    }
+
+    private static long fingerprint(HandheldPair x, boolean withRam) {
         long sum = x.count(1);
         for (int c = 0; c < 2; c++) {
             sum = sum * 31 + x.time(c);
@@ -47,7 +54,7 @@ public final class StatesTest {
                 sum = sum * 31 + x.memory(c, address);
             }
         }
-        return sum * 31 + x.saved(0, 0);
+        return withRam ? sum * 31 + x.saved(0, 0) : sum;
     }
 
     private static HandheldPair busyPair() {
@@ -73,6 +80,91 @@ public final class StatesTest {
         Checks.due("it goes on as it did", fingerprint(x), later);
         x.take(1);
         Checks.due("once more", fingerprint(x), before);
+    }
+
+    /** In HIGH memory, for ever: a COPY, the time that it takes and some more, a bit by the cable. */
+    private static Rom copying(int sc) {
+        int[] loop = {0x3E, 0xC0, 0xE0, 0x46, 0x06, 0x28, 0x05, 0x20, 0xFD, 0x21, 0x77, 0xC0, 0x34, 0x0D, 0x20, 0xF0, 0x3E, sc, 0xE0, 0x02, 0x18, 0xEA};
+        Rom rom = new Rom().kind(0x1B, 3).ldh(0x01, sc + 3).ldh(0x02, sc);
+        for (int i = 0; i < loop.length; i++) {
+            rom.ldh(0x80 + i, loop[i]);
+        }
+        return rom.code(0x0E, 0x09, 0xC3, 0x80, 0xFF);
+    }
+
+    private static void comesBackAtAnyTime() {
+        for (int start = 500; start < 12000; start += 421) {
+            HandheldPair x = (start % 2 == 0 ? busy() : copying(0x80)).start();
+            copying(0x81).insertInto(x, 1);
+            x.run(start);
+            long before = fingerprint(x, start % 2 == 0);
+            x.keep(0);
+            x.run(300);
+            long soon = fingerprint(x, start % 2 == 0);
+            x.run(9000);
+            long later = fingerprint(x, start % 2 == 0);
+            x.run(3000 + start);
+            x.take(0);
+            Checks.due("as it was at " + start, fingerprint(x, start % 2 == 0), before);
+            x.run(300);
+            Checks.due("then soon, " + start, fingerprint(x, start % 2 == 0), soon);
+            x.run(9000);
+            Checks.due("then later, " + start, fingerprint(x, start % 2 == 0), later);
+        }
+    }
+
+    /** The 0 that makes a later 1 latch the clock is part of the state. */
+    private static void latchComesBack() {
+        Rom rom = new Rom().kind(0x10, 0).poke(0, 10).poke(0x4000, 8).code(0x16, 0x03, 0x01, 0x00, 0x00)
+            .code(0x0B, 0x78, 0xB1, 0x20, 0xFB, 0x15, 0x20, 0xF5).poke(0x6000, 0).nops(100).poke(0x6000, 1).stay();
+        HandheldPair x = rom.start();
+        x.run(1000);
+        for (int i = 0; i < 200 && x.about(0, 4) != 1; i++) {
+            x.run(30000);
+        }
+        for (int i = 0; i < 100000 && x.about(0, 9) < rom.here() - 100; i++) {
+            x.run(24);
+        }
+        x.keep(0);
+        Checks.due("not latched", x.memory(0, 0xA000), 0);
+        x.run(1000);
+        Checks.due("latched", x.memory(0, 0xA000), 1);
+        x.take(0);
+        Checks.due("not latched", x.memory(0, 0xA000), 0);
+        x.run(1000);
+        Checks.due("latched", x.memory(0, 0xA000), 1);
+    }
+
+    /** Behind power all goes as with a new cartridge, but for RAM and TIME. */
+    private static void powerMakesAllNew() {
+        int[] starts = {700, 1300, 2500, 3001, 7777, 50000, 70001};
+        for (int start : starts) {
+            for (int kind = 0; kind < 2; kind++) {
+                HandheldPair x = (kind == 0 ? busy() : copying(0x81)).start();
+                HandheldPair fresh = (kind == 0 ? busy() : copying(0x81)).start();
+                x.keys(0, 0x21);
+                x.run(start);
+                x.keys(0, 0);
+                x.power(0);
+                int gap = (int) (x.time(0) - x.count(1));
+                if (gap > 0) {
+                    x.run(gap);
+                }
+                long from = x.time(0);
+                int[] lengths = {4, 100, 500, 1000, 3000, 9000, 40000};
+                for (int n : lengths) {
+                    Checks.due("steps", x.run(n), fresh.run(n));
+                    Checks.due("TIME", x.time(0) - from, fresh.time(0));
+                    Checks.due("picture", x.picture(0), fresh.picture(0));
+                    for (int what = 0; what <= 25; what++) {
+                        Checks.due("about " + what + " behind power at " + start, x.about(0, what), fresh.about(0, what));
+                    }
+                    for (int address = 0; address < 0x10000; address += address < 0xFE00 ? 7 : 1) {
+                        Checks.due("memory " + Integer.toHexString(address), x.memory(0, address), fresh.memory(0, address));
+                    }
+                }
+            }
+        }
     }
 
     private static void twoStates() {
