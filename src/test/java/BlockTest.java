@@ -63,7 +63,9 @@ public final class BlockTest {
     private static void closedSources() {
         int[] closed = {0x8000, 0x9FF0, 0xE000, 0xFE00, 0xFF00, 0xA000};
         for (int source : closed) {
-            HandheldPair x = block(data().ldh(0x40, 0).poke(0x8000, 1).poke(0x9FF0, 1).poke(0xC000, 1), source, 0x100, 0).stay().start();
+            // A long image, so that no other byte of it is $FF.
+            Rom rom = new Rom(0x8000).colour().ldh(0x40, 0).poke(0x8000, 1).poke(0x9FF0, 1).poke(0xC000, 1);
+            HandheldPair x = block(rom, source, 0x100, 0).stay().start();
             x.run(400);
             Checks.due("from " + Integer.toHexString(source), x.memory(0, 0x8100), 255);
             Checks.due("from " + Integer.toHexString(source), x.memory(0, 0x810F), 255);

@@ -126,6 +126,12 @@ public final class CartridgeTest {
         Checks.due("read with four set", x.memory(0, 0xBFFF), 0xFC);
         Checks.due("read with four set", x.memory(0, 0xA002), 0xF0);
         Checks.dueThrow("512 bytes", IndexOutOfBoundsException.class, () -> x.saved(0, 512));
+        HandheldPair y = new Rom().kind(6, 0).poke(0x4000, 10).poke(0x7E00, 10).poke(0xA000, 1).stay().start();
+        y.run(300);
+        Checks.due("from $4000 on nothing", y.memory(0, 0xA000), 255);
+        HandheldPair z = new Rom().kind(6, 0).poke(0x3EFF, 10).poke(0xA000, 1).stay().start();
+        z.run(300);
+        Checks.due("below $4000 ON", z.memory(0, 0xA000), 0xF1);
     }
 
     private static void saved() {

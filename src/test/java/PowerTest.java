@@ -19,7 +19,7 @@ public final class PowerTest {
 
     private static void startsAnew() {
         HandheldPair x = new Rom().colour().ldh(0x26, 0).ldh(0x26, 0x80).ldh(0x40, 0x11).ldh(0x80, 7).poke(0xC000, 8).poke(0x8000, 9)
-            .ldh(0x70, 3).ldh(0x4F, 1).ldh(0x07, 5).ldh(0x4D, 1).code(0x10, 0x00, 0x76).start();
+            .ldh(0x70, 3).ldh(0x4F, 1).ldh(0x07, 5).ldh(0xFF, 0xE8).ldh(0x4D, 1).code(0x10, 0x00, 0x76).start();
         x.keys(0, 0x10);
         x.run(2000);
         Checks.due("FAST before", x.about(0, 13), 1);
@@ -31,7 +31,7 @@ public final class PowerTest {
             Checks.due("about " + what, x.about(0, what), want[what]);
         }
         int[][] memory = {{0xFF80, 0}, {0xC000, 0}, {0x8000, 0}, {0xFF70, 0xF8}, {0xFF4F, 0xFE}, {0xFF07, 0xF8}, {0xFF40, 0x91},
-            {0xFF0F, 0xE1}, {0xFF00, 0xCE}, {0xFF26, 0xF0}};
+            {0xFF0F, 0xE1}, {0xFFFF, 0}, {0xFF00, 0xCE}, {0xFF26, 0xF0}};
         for (int[] m : memory) {
             Checks.due("memory " + Integer.toHexString(m[0]), x.memory(0, m[0]), m[1]);
         }

@@ -202,6 +202,12 @@ public final class ScreenTest {
         HandheldPair z = new Rom().ldh(0x4A, 0).ldh(0x4B, 7).ldh(0x40, 0xB0).code(0x76).start();
         z.run(456 * 10);
         Checks.due("without bit 0 it counts all the same", z.about(0, 15), 9);
+        // In line 0 the window is left behind dot 156, in line 1 it never comes.
+        HandheldPair w = new Rom().ldh(0x4A, 0).ldh(0x4B, 7).ldh(0x40, 0xB1).nops(15).ldh(0x40, 0x91).code(0x76).start();
+        w.run(456 * 2);
+        Checks.due("one pixel of the window is enough", w.about(0, 15), 1);
+        w.run(456 * 5);
+        Checks.due("lines without it do not count", w.about(0, 15), 1);
     }
 
     /** A loop that fills VIDEO by a rule that the test knows: seed, then 5 * d + 17, mixed with the address. */

@@ -52,6 +52,15 @@ public final class SoundTest {
         HandheldPair x = halted(new Rom().ldh(0x16, 0xC0).ldh(0x17, 0x10).ldh(0x18, 0).ldh(0x19, 0x80));
         runTo(x, 96);
         Checks.due("position 1 of duty 3", x.about(0, 17), 1);
+        // The trigger comes 4 DOTS before, with, and behind the 49,152nd DOT, which makes position 7.
+        for (int late = 0; late < 3; late++) {
+            Rom rom = new Rom().ldh(0x16, 0).ldh(0x17, 0xC0).code(0x01, 0xD8, 0x06, 0x0B, 0x78, 0xB1, 0x20, 0xFB).nops(2 + late).ldh(0x19, 0x80);
+            HandheldPair y = halted(rom);
+            runTo(y, 49148 + 4 * late);
+            Checks.due("ON", on(y), 2);
+            Checks.due("TIME", y.time(0), 49148 + 4 * late);
+            Checks.due("position 7 of duty 0", y.about(0, 17), late == 0 ? 0 : 12);
+        }
     }
 
     private static void wave() {
@@ -134,6 +143,21 @@ public final class SoundTest {
         }
         dueLength(1, 0, 64);
         dueLength(2, 0xC0, 64);
+        lengthBeginsAnew();
+    }
+
+    /** The first LENGTH goes with STEP 0; the trigger behind STEP 6 finds 0, and makes it 64. */
+    private static void lengthBeginsAnew() {
+        Rom rom = begin(new Rom(), 1, 0x3F, true).code(0x01, 0x00, 0x09, 0x0B, 0x78, 0xB1, 0x20, 0xFB).ldh(0x19, 0xC0);
+        HandheldPair x = halted(rom);
+        runTo(x, STEP_DOTS);
+        Checks.due("not ON", on(x), 0);
+        runTo(x, 8L * STEP_DOTS);
+        Checks.due("ON again", on(x), 2);
+        runTo(x, 8L * STEP_DOTS + 127L * STEP_DOTS - 4);
+        Checks.due("ON until 64 went", on(x), 2);
+        runTo(x, 8L * STEP_DOTS + 127L * STEP_DOTS);
+        Checks.due("not ON again", on(x), 0);
     }
 
     /** STEP 7 comes every 65,536 DOTS; what channel 2, duty 3, reaches between two of them. */
@@ -189,6 +213,10 @@ public final class SoundTest {
         dueFrequency("every second time", z, 7, 1500);
         HandheldPair w = sweeping(0x02, 1200);
         dueFrequency("no pace", w, 7, 1200);
+        HandheldPair v = sweeping(0x10, 900);
+        dueFrequency("no shift: reckoned for going beyond alone", v, 8, 900);
+        HandheldPair u = halted(new Rom().ldh(0x12, 0xF0).ldh(0x13, 0).ldh(0x14, 0x84).ldh(0x10, 0x12));
+        dueFrequency("it does not count if both were 0 at the trigger", u, 8, 1024);
     }
 
     /** How long channel 1 is at place 7, the only one of duty 0; the state is taken back. */

@@ -92,10 +92,18 @@ public final class StatesTest {
         return rom.code(0x0E, 0x09, 0xC3, 0x80, 0xFF);
     }
 
+    /** Writes ever other values to the registers 05 to 25, timer and sound, for ever. */
+    private static Rom noisy() {
+        Rom rom = new Rom(0x800).kind(0x13, 2).ldh(0x30, 0xC7).ldh(0x3F, 0x19).code(0x21, 0x00, 0xC1);
+        int loop = rom.here();
+        return rom.code(0x0E, 0x05, 0x34, 0x7E, 0x81, 0x07, 0xE2, 0x0C, 0x79, 0xFE, 0x26, 0x20, 0xF5)
+            .code(0x06, 0x50, 0x05, 0x20, 0xFD, 0x7E, 0xEA, 0x23, 0xC1, 0xC3, loop, loop >> 8);
+    }
+
     private static void comesBackAtAnyTime() {
         for (int start = 500; start < 12000; start += 421) {
             HandheldPair x = (start % 2 == 0 ? busy() : copying(0x80)).start();
-            copying(0x81).insertInto(x, 1);
+            (start % 4 < 2 ? copying(0x81) : noisy()).insertInto(x, 1);
             x.run(start);
             long before = fingerprint(x, start % 2 == 0);
             x.keep(0);
@@ -139,9 +147,9 @@ public final class StatesTest {
     private static void powerMakesAllNew() {
         int[] starts = {700, 1300, 2500, 3001, 7777, 50000, 70001};
         for (int start : starts) {
-            for (int kind = 0; kind < 2; kind++) {
-                HandheldPair x = (kind == 0 ? busy() : copying(0x81)).start();
-                HandheldPair fresh = (kind == 0 ? busy() : copying(0x81)).start();
+            for (int kind = 0; kind < 3; kind++) {
+                HandheldPair x = (kind == 0 ? busy() : kind == 1 ? noisy() : copying(0x81)).start();
+                HandheldPair fresh = (kind == 0 ? busy() : kind == 1 ? noisy() : copying(0x81)).start();
                 x.keys(0, 0x21);
                 x.run(start);
                 x.keys(0, 0);
@@ -209,6 +217,30 @@ public final class StatesTest {
         Checks.due("GOAL", x.count(1), 200);
         Checks.due("keys", x.memory(0, 0xFF00), 0xCF);
         Checks.due("power", x.power(0), x.time(0));
+        anotherCartridgeBetween();
+    }
+
+    private static void anotherCartridgeBetween() {
+        HandheldPair x = busyPair();
+        long before = fingerprint(x);
+        x.keep(0);
+        x.run(5000);
+        long later = fingerprint(x);
+        noisy().insertInto(x, 0);
+        copying(0x81).insertInto(x, 1);
+        x.run(7000);
+        x.take(0);
+        Checks.due("as it was", fingerprint(x), before);
+        x.run(5000);
+        Checks.due("it goes on as it did", fingerprint(x), later);
+        noisy().insertInto(x, 1);
+        x.run(9000);
+        x.keep(1);
+        long noise = fingerprint(x);
+        busy().insertInto(x, 1);
+        x.run(3000);
+        x.take(1);
+        Checks.due("from COLOUR to none", fingerprint(x), noise);
     }
 
     private static void asideStays() {
