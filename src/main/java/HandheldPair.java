@@ -1511,12 +1511,11 @@ public final class HandheldPair {
 
         final int[] now = new int[5];
         final int[] latched = new int[5];
-        int dotsLeft = DOTS;
+        int dotsLeft;
 
         void clear() {
             Console.clear(now);
             Console.clear(latched);
-            dotsLeft = DOTS;
         }
 
         void beginDots() {

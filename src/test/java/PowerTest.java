@@ -5,6 +5,7 @@ public final class PowerTest {
     public static void main(String[] args) {
         wrongInputs();
         startsAnew();
+        whatWasUnderWayEnds();
         cartridgeStays();
         timeBecomesGoal();
         Checks.end("PowerTest");
@@ -19,7 +20,7 @@ public final class PowerTest {
 
     private static void startsAnew() {
         HandheldPair x = new Rom().colour().ldh(0x26, 0).ldh(0x26, 0x80).ldh(0x40, 0x11).ldh(0x80, 7).poke(0xC000, 8).poke(0x8000, 9)
-            .ldh(0x70, 3).ldh(0x4F, 1).ldh(0x07, 5).ldh(0xFF, 0xE8).ldh(0x4D, 1).code(0x10, 0x00, 0x76).start();
+            .ldh(0x70, 3).ldh(0x4F, 1).ldh(0x07, 5).ldh(0xFF, 0xE8).ldh(0x00, 0x10).ldh(0x4D, 1).code(0x10, 0x00, 0x76).start();
         x.keys(0, 0x10);
         x.run(2000);
         Checks.due("FAST before", x.about(0, 13), 1);
@@ -35,6 +36,36 @@ public final class PowerTest {
         for (int[] m : memory) {
             Checks.due("memory " + Integer.toHexString(m[0]), x.memory(0, m[0]), m[1]);
         }
+    }
+
+    private static void whatWasUnderWayEnds() {
+        HandheldPair copy = new Rom().ldh(0x40, 0x11).poke(0xFE00, 0x77).ldh(0x46, 0x01).stay().start();
+        copy.run(80);
+        Checks.due("a COPY that was written", copy.about(0, 23), 160);
+        Checks.due("sprites", copy.memory(0, 0xFE00), 0x77);
+        copy.power(0);
+        Checks.due("sprites are 0", copy.memory(0, 0xFE00), 0);
+        Checks.due("no COPY", copy.about(0, 23), 0);
+        copy.run(16);
+        Checks.due("no COPY", copy.about(0, 23), 0);
+        Checks.due("PC", copy.about(0, 9), 0x150);
+
+        HandheldPair block = new Rom().colour().ldh(0x55, 0x85).nops(100).stay().start();
+        block.run(256);
+        Checks.due("a BLOCK under way", block.about(0, 24), 5);
+        block.power(0);
+        Checks.due("no BLOCK", block.about(0, 24), 0);
+        long time = block.time(0);
+        block.run(1);
+        Checks.due("no idle M-CYCLES", block.time(0), time + 16);
+
+        HandheldPair cable = new Rom().ldh(1, 0x55).ldh(2, 0x81).nops(300).stay().start();
+        cable.run(1200);
+        Checks.due("a bit went", cable.about(0, 25), 6);
+        cable.power(0);
+        Checks.due("SB", cable.memory(0, 0xFF01), 0);
+        Checks.due("SC", cable.memory(0, 0xFF02), 0x7E);
+        Checks.due("BITS", cable.about(0, 25), 0);
     }
 
     private static void cartridgeStays() {

@@ -203,6 +203,10 @@ public final class SoundTest {
     private static void sweepGoesOn() {
         // The sweep comes with STEPS 2 and 6, which end 3 and 7 times 8,192 DOTS.
         HandheldPair x = sweeping(0x12, 1024);
+        runTo(x, STEP_DOTS);
+        x.keep(1);
+        runTo(x, 7L * STEP_DOTS);
+        x.take(1);
         dueFrequency("a fourth more", x, 3, 1280);
         dueFrequency("a fourth more", x, 7, 1600);
         HandheldPair y = sweeping(0x1A, 1900);

@@ -241,6 +241,18 @@ public final class StatesTest {
         x.run(3000);
         x.take(1);
         Checks.due("from COLOUR to none", fingerprint(x), noise);
+        Rom small = new Rom().kind(6, 0).poke(0, 10).poke(0xA005, 0x0B).stay();
+        HandheldPair y = small.start();
+        y.run(100);
+        y.keep(0);
+        new Rom().kind(3, 3).poke(0, 10).poke(0xA005, 0x77).stay().insertInto(y, 0);
+        y.run(100);
+        y.keep(1);
+        y.take(0);
+        Checks.due("512 bytes, four bits of each", y.memory(0, 0xA205), 0xFB);
+        y.take(1);
+        Checks.due("whole bytes", y.memory(0, 0xA005), 0x77);
+        Checks.due("four banks", y.saved(0, 32767), 0);
     }
 
     private static void asideStays() {
