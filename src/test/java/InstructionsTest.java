@@ -429,6 +429,10 @@ public final class InstructionsTest {
         Checks.due("from C", x.about(0, 0), 0x43);
         step(x, 2);
         Checks.due("from nn, to nn", x.memory(0, 0xC000), 0x42);
+        HandheldPair y = new Rom().put(0x100, 0x18, 0x4E).code(0x0E, 0x92, 0xE2, 0x0C, 0xF2).start();
+        step(y, 3);
+        Checks.due("an even C", y.memory(0, 0xFF92), 1);
+        Checks.due("and not beside it", y.memory(0, 0xFF93), 0);
     }
 
     private static void flagsAlone() {

@@ -174,6 +174,13 @@ public final class ScreenTest {
         for (int[] w : want) {
             Checks.due("pixel " + w[0], x.pixel(0, w[0], 0), w[1]);
         }
+        for (int scx = 0; scx < 16; scx++) {
+            int fine = scx & 7;
+            HandheldPair y = new Rom().ldh(0x43, scx).nops(20).ldh(0x47, 0x02).nops(30).ldh(0x47, 0x01).nops(30).stay().start();
+            y.run(450);
+            Checks.due("fine scroll: the first of shade 2", y.pixel(0, 44 - fine, 0), 2);
+            Checks.due("fine scroll: the one before", y.pixel(0, 43 - fine, 0), 0);
+        }
         int sum = 0;
         for (int i = 0; i < 160 * 144; i++) {
             int line = i / 160;

@@ -220,7 +220,7 @@ public final class SoundTest {
         HandheldPair v = sweeping(0x10, 900);
         dueFrequency("no shift: reckoned for going beyond alone", v, 8, 900);
         HandheldPair u = halted(new Rom().ldh(0x12, 0xF0).ldh(0x13, 0).ldh(0x14, 0x84).ldh(0x10, 0x12));
-        dueFrequency("it does not count if both were 0 at the trigger", u, 8, 1024);
+        dueFrequency("it does not count if both were 0 at the trigger", u, 40, 1024);
     }
 
     /** How long channel 1 is at place 7, the only one of duty 0; the state is taken back. */
@@ -260,6 +260,7 @@ public final class SoundTest {
         dueSweepEnds("reckoned at the trigger", 0x11, 2000, 0);
         dueSweepEnds("1365 + 682 is 2047", 0x01, 1365, -1);
         dueSweepEnds("1366 + 683 is 2049", 0x01, 1366, 0);
+        dueSweepEnds("1821 + 227 is 2048", 0x03, 1821, 0);
         dueSweepEnds("once more behind the first", 0x11, 1000, 3L * STEP_DOTS);
         dueSweepEnds("no shift, a pace: 1500 doubled at STEP 2", 0x10, 1500, 3L * STEP_DOTS);
         dueSweepEnds("no shift, a pace: less", 0x18, 1500, -1);
@@ -306,6 +307,12 @@ public final class SoundTest {
         Checks.due("WAVE is written", x.memory(0, 0xFF31), 0xCD);
         runTo(x, 16 + 20 * 12);
         Checks.due("on", x.memory(0, 0xFF26), 0xF0);
+
+        // PERIODS stand while it is off: of 8,192 DOTS some 5,000 go by on, and 7,000 off.
+        HandheldPair w = halted(new Rom().ldh(0x26, 0).code(0x01, 250, 0, 0x0B, 0x78, 0xB1, 0x20, 0xFB).ldh(0x26, 0x80)
+            .code(0x01, 180, 0, 0x0B, 0x78, 0xB1, 0x20, 0xFB).ldh(0x16, 0x40).ldh(0x17, 0xF0).ldh(0x19, 0x80));
+        runTo(w, 13000);
+        Checks.due("position 0 of duty 1", w.about(0, 17), 15);
 
         // STEP counts from 0 behind on: LENGTH 1 goes at the next STEP, even if STEP 1 were due.
         Rom rom = new Rom(0x2000).nops(0x900).code(0);

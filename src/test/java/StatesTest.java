@@ -4,6 +4,7 @@ public final class StatesTest {
         wrongInputs();
         comesBack();
         comesBackAtAnyTime();
+        registersComeBack();
         latchComesBack();
         powerMakesAllNew();
         twoStates();
@@ -118,6 +119,34 @@ public final class StatesTest {
             Checks.due("then soon, " + start, fingerprint(x, start % 2 == 0), soon);
             x.run(9000);
             Checks.due("then later, " + start, fingerprint(x, start % 2 == 0), later);
+        }
+    }
+
+    /** Two sets of registers: the state is kept with the first, and taken back behind the second. */
+    private static void registersComeBack() {
+        Rom rom = new Rom(0x800).kind(0x10, 3).colour().poke(0, 10).poke(0x2000, 5).poke(0x4000, 9).poke(0xA000, 5)
+            .ldh(0x55, 0x83).ldh(0x55, 0x12).ldh(0x4F, 1).ldh(0x26, 0).ldh(0x6A, 0x85).ldh(0x00, 0x10);
+        int first = rom.here();
+        rom.nops(60).poke(0x6000, 0).poke(0x6000, 1).nops(60);
+        int latched = rom.here();
+        rom.poke(0xA000, 20).poke(0x2000, 9).poke(0x4000, 1).poke(0, 0).ldh(0x55, 0x87).ldh(0x4F, 0).ldh(0x26, 0x80).ldh(0x6A, 0)
+            .ldh(0x00, 0x20).stay();
+        HandheldPair x = rom.start();
+        runToPlace(x, first + 10);
+        x.keep(0);
+        long before = fingerprint(x);
+        runToPlace(x, rom.here() - 2);
+        Checks.due("the second set", x.about(0, 21), 9);
+        x.take(0);
+        Checks.due("the first set", fingerprint(x), before);
+        Checks.due("55", x.memory(0, 0xFF55), 0x92);
+        runToPlace(x, latched - 10);
+        Checks.due("minutes of then", x.memory(0, 0xA000), 5);
+    }
+
+    private static void runToPlace(HandheldPair x, int pc) {
+        for (int i = 0; i < 10000 && x.about(0, 9) < pc; i++) {
+            x.run(4);
         }
     }
 
