@@ -20,28 +20,36 @@ public final class CopyTest {
     }
 
     private static HandheldPair startedAt80(Rom rom) {
-        HandheldPair x = rom.start();
-        for (int i = 0; i < 20000 && x.about(0, 9) != 0xFF80; i++) {
-            InterruptTest.step(x, 1);
+        HandheldPair probe = rom.start();
+        int before = 0;
+        for (int i = 0; i < 200 && probe.about(0, 9) < 0xFF80; i++) {
+            before = i * 200;
+            probe.run(200);
         }
+        HandheldPair x = rom.start();
+        Go.toTime(x, before);
+        for (int i = 0; i < 60 && x.about(0, 9) != 0xFF80; i++) {
+            x.run(4);
+        }
+        Checks.due("PC", x.about(0, 9), 0xFF80);
         return x;
     }
 
     private static void onTime() {
         HandheldPair x = startedAt80(rom(0x11, 0xC0, 0xE0, 0x46, 0x18, 0xFE));
         Checks.due("none", x.about(0, 23), 0);
-        InterruptTest.step(x, 1);
+        Go.step(x, 1);
         Checks.due("46", x.memory(0, 0xFF46), 0xC0);
         Checks.due("all are to come", x.about(0, 23), 160);
         Checks.due("not blocked yet", x.memory(0, 0xC000), 255);
         Checks.due("not blocked yet", x.memory(0, 0xC001), 254);
         // Each jump is three M-CYCLES; the first of all makes no byte.
-        InterruptTest.step(x, 1);
+        Go.step(x, 1);
         Checks.due("two bytes", x.about(0, 23), 158);
-        InterruptTest.step(x, 52);
+        Go.step(x, 52);
         Checks.due("two left", x.about(0, 23), 2);
         Checks.due("blocked", x.memory(0, 0xC001), 255);
-        InterruptTest.step(x, 1);
+        Go.step(x, 1);
         Checks.due("done", x.about(0, 23), 0);
         Checks.due("not blocked", x.memory(0, 0xC001), 254);
         for (int k = 0; k < 160; k++) {
@@ -54,7 +62,7 @@ public final class CopyTest {
         // Behind the write: reads of ($C010), (HL) and a write to $C011, then one to $FF90.
         Rom rom = rom(0x11, 0xC0, 0xE0, 0x46, 0xFA, 0x10, 0xC0, 0x47, 0xEA, 0x11, 0xC0, 0x3E, 0x77, 0xE0, 0xB0, 0xFA, 0xB0, 0xFF, 0x4F, 0x18, 0xFE);
         HandheldPair x = startedAt80(rom);
-        InterruptTest.step(x, 2);
+        Go.step(x, 2);
         Checks.due("a read", x.about(0, 0), 255);
         int[] blocked = {0x0150, 0x7FFF, 0x8000, 0xA000, 0xC020, 0xD000, 0xE001, 0xFDFF, 0xFE00, 0xFEA0, 0xFEFF};
         for (int address : blocked) {
@@ -93,14 +101,14 @@ public final class CopyTest {
     private static void beginsAnew() {
         // The second write comes four M-CYCLES behind the first one's: its LDs take two and three.
         HandheldPair x = startedAt80(rom(0x11, 0xC0, 0xE0, 0x46, 0x3E, 0x00, 0xE0, 0x46, 0x00, 0x00, 0x00, 0x18, 0xFE));
-        InterruptTest.step(x, 2);
+        Go.step(x, 2);
         Checks.due("one byte", x.about(0, 23), 159);
-        InterruptTest.step(x, 1);
+        Go.step(x, 1);
         Checks.due("all of the new one", x.about(0, 23), 160);
         Checks.due("the old one blocks", x.memory(0, 0xC001), 255);
-        InterruptTest.step(x, 1);
+        Go.step(x, 1);
         Checks.due("all of the new one", x.about(0, 23), 160);
-        InterruptTest.step(x, 1);
+        Go.step(x, 1);
         Checks.due("its first byte", x.about(0, 23), 159);
         x.run(1000);
         Checks.due("the new one's bytes", x.memory(0, 0xFE00), 0);
@@ -115,7 +123,7 @@ public final class CopyTest {
             .ldh(0x80, 0xE0).ldh(0x81, 0x46).ldh(0x82, 0x18).ldh(0x83, 0xFE).code(0x3E, 0x81, 0xC3, 0x80, 0xFF);
         HandheldPair x = startedAt80(rom);
         x.run(1000);
-        for (int i = 0; i < 300 && (x.memory(0, 0xFF41) & 3) != 0; i++) {
+        for (int i = 0; i < 60 && (x.memory(0, 0xFF41) & 3) != 0; i++) {
             x.run(12);
         }
         Checks.due("mode 0", x.memory(0, 0xFF41) & 3, 0);

@@ -32,14 +32,6 @@ public final class InstructionsTest {
         return new Rom().put(0x100, code).start();
     }
 
-    private static void step(HandheldPair x, int n) {
-        for (int i = 0; i < n; i++) {
-            // GOAL is brought just above TIME, so that one instruction is done.
-            long behind = x.time(0) - x.count(1);
-            x.run((int) behind + 1);
-        }
-    }
-
     /** At power on Z and C are set: so not Z and not C do not hold, and Z and C do. */
     private static int cyclesWhenSet(int op) {
         int listed = CYCLES.charAt(op) - '0';
@@ -70,7 +62,7 @@ public final class InstructionsTest {
             Checks.due("one step", x.run(1), 1);
             Checks.due("DOTS of " + Integer.toHexString(op), x.time(0), 4 * cyclesWhenSet(op));
             x = at100(0xA7, op, 0, 0xC0);
-            step(x, 2);
+            Go.step(x, 2);
             Checks.due("DOTS of " + Integer.toHexString(op) + " with Z, C clear", x.time(0), 4 + 4 * cyclesWhenClear(op));
         }
     }
@@ -92,18 +84,18 @@ public final class InstructionsTest {
                 boolean set = (f & (k < 2 ? 0x80 : 0x10)) != 0;
                 boolean holds = set == ((k & 1) == 1);
                 HandheldPair x = new Rom().put(0x100, 0x01, f, 0x12, 0xC5, 0xF1, 0x20 | k << 3, 0x84).start();
-                step(x, 4);
+                Go.step(x, 4);
                 Checks.due("F", x.about(0, 1), f);
                 Checks.due("jump by d", x.about(0, 9), holds ? 0x107 - 0x7C : 0x107);
                 x = new Rom().put(0x100, 0x01, f, 0x12, 0xC5, 0xF1, 0xC2 | k << 3, 0x34, 0x12).start();
-                step(x, 4);
+                Go.step(x, 4);
                 Checks.due("jump", x.about(0, 9), holds ? 0x1234 : 0x108);
                 x = new Rom().put(0x100, 0x01, f, 0x12, 0xC5, 0xF1, 0xC4 | k << 3, 0x34, 0x12).start();
-                step(x, 4);
+                Go.step(x, 4);
                 Checks.due("call", x.about(0, 9), holds ? 0x1234 : 0x108);
                 Checks.due("call: SP", x.about(0, 8), holds ? 0xFFFC : 0xFFFE);
                 x = new Rom().put(0x100, 0x01, f, 0x12, 0xC5, 0xF1, 0xC5, 0xC0 | k << 3).start();
-                step(x, 5);
+                Go.step(x, 5);
                 Checks.due("return", x.about(0, 9), holds ? 0x1200 | f : 0x107);
                 Checks.due("return: SP", x.about(0, 8), holds ? 0xFFFE : 0xFFFC);
             }
@@ -121,7 +113,7 @@ public final class InstructionsTest {
             int from = op & 7;
             HandheldPair x = new Rom().put(0x100, 0x18, 0x4E)
                 .code(0x01, 0x22, 0x11, 0x11, 0x44, 0x33, 0x21, 0x80, 0xC0, 0x3E, 0x77, 0x36, 0x66, op).start();
-            step(x, 7);
+            Go.step(x, 7);
             int[] values = {0x11, 0x22, 0x33, 0x44, 0xC0, 0x80, 0x66, 0x77};
             int got = to == 6 ? x.memory(0, 0xC080) : x.about(0, PLACES[to]);
             Checks.due("load " + Integer.toHexString(op), got, values[from]);
@@ -129,7 +121,7 @@ public final class InstructionsTest {
         }
         for (int k = 0; k < 8; k++) {
             HandheldPair x = new Rom().put(0x100, 0x18, 0x4E).code(0x21, 0x80, 0xC0, 0x06 | k << 3, 0x9B).start();
-            step(x, 3);
+            Go.step(x, 3);
             Checks.due("load n", k == 6 ? x.memory(0, 0xC080) : x.about(0, PLACES[k]), 0x9B);
         }
     }
@@ -304,35 +296,35 @@ public final class InstructionsTest {
         int[][] sums = {{0x0FFF, 1}, {0xFFFF, 1}, {0x8000, 0x8000}, {0x1234, 0x4321}, {0, 0}, {0xF800, 0x0800}};
         for (int[] s : sums) {
             HandheldPair x = new Rom().put(0x100, 0x21, s[0], s[0] >> 8, 0x01, s[1], s[1] >> 8, 0x09).start();
-            step(x, 3);
+            Go.step(x, 3);
             Checks.due("HL", x.about(0, 6) << 8 | x.about(0, 7), s[0] + s[1] & 0xFFFF);
             Checks.due("F", x.about(0, 1), flags(true, false, (s[0] & 0xFFF) + (s[1] & 0xFFF) > 0xFFF, s[0] + s[1] > 0xFFFF));
         }
         HandheldPair x = at100(0xA7, 0x19, 0x29, 0x39);
-        step(x, 2);
+        Go.step(x, 2);
         Checks.due("HL + DE", x.about(0, 6) << 8 | x.about(0, 7), 0x14D + 0xD8);
         Checks.due("Z stays clear", x.about(0, 1) & 128, 0);
-        step(x, 1);
+        Go.step(x, 1);
         Checks.due("HL + HL", x.about(0, 6) << 8 | x.about(0, 7), 2 * (0x14D + 0xD8));
-        step(x, 1);
+        Go.step(x, 1);
         Checks.due("HL + SP", x.about(0, 6) << 8 | x.about(0, 7), 2 * (0x14D + 0xD8) - 2);
         int[][] moves = {{0xFFF8, 8}, {0xFFF8, 0xF8}, {0x000F, 1}, {0, 0xFF}, {0x00FF, 1}, {0x1234, 0x80}, {0x1280, 0x7F}};
         for (int[] m : moves) {
             int want = m[0] + (byte) m[1] & 0xFFFF;
             int f = flags(false, false, m[0] % 16 + m[1] % 16 > 15, m[0] % 256 + m[1] > 255);
             x = new Rom().put(0x100, 0x31, m[0], m[0] >> 8, 0xE8, m[1]).start();
-            step(x, 2);
+            Go.step(x, 2);
             Checks.due("SP + d", x.about(0, 8), want);
             Checks.due("SP + d: F", x.about(0, 1), f);
             x = new Rom().put(0x100, 0x31, m[0], m[0] >> 8, 0xF8, m[1]).start();
-            step(x, 2);
+            Go.step(x, 2);
             Checks.due("HL = SP + d", x.about(0, 6) << 8 | x.about(0, 7), want);
             Checks.due("HL = SP + d: F", x.about(0, 1), f);
             Checks.due("SP stays", x.about(0, 8), m[0]);
         }
         pairsByOne();
         x = at100(0xF9);
-        step(x, 1);
+        Go.step(x, 1);
         Checks.due("SP = HL", x.about(0, 8), 0x14D);
     }
 
@@ -343,11 +335,11 @@ public final class InstructionsTest {
     private static void pairsByOne() {
         for (int p = 0; p < 4; p++) {
             HandheldPair x = at100(0x01 | p << 4, 0xFF, 0xFF, 0x03 | p << 4, 0x0B | p << 4);
-            step(x, 1);
+            Go.step(x, 1);
             Checks.due("pair", pair(x, p), 0xFFFF);
-            step(x, 1);
+            Go.step(x, 1);
             Checks.due("pair one more", pair(x, p), 0);
-            step(x, 1);
+            Go.step(x, 1);
             Checks.due("pair one less", pair(x, p), 0xFFFF);
             Checks.due("no flags", x.about(0, 1), 0xB0);
         }
@@ -357,80 +349,80 @@ public final class InstructionsTest {
         HandheldPair x = new Rom().put(0x100, 0x18, 0x4E)
             .code(0x01, 0x10, 0xC0, 0x11, 0x20, 0xC0, 0x21, 0x30, 0xC0, 0x3E, 0x5C)
             .code(0x02, 0x12, 0x22, 0x32, 0x3C, 0x77, 0x0A, 0x1A, 0x2A, 0x3A).start();
-        step(x, 9);
+        Go.step(x, 9);
         int[] places = {0xC010, 0xC020, 0xC030, 0xC031};
         for (int place : places) {
             Checks.due("written at " + place, x.memory(0, place), 0x5C);
         }
         Checks.due("HL went on and back", pair(x, 2), 0xC030);
-        step(x, 2);
+        Go.step(x, 2);
         Checks.due("written through HL", x.memory(0, 0xC030), 0x5D);
-        step(x, 1);
+        Go.step(x, 1);
         Checks.due("read at BC", x.about(0, 0), 0x5C);
-        step(x, 2);
+        Go.step(x, 2);
         Checks.due("read at HL, one more", x.about(0, 0), 0x5D);
-        step(x, 1);
+        Go.step(x, 1);
         Checks.due("read at HL, one less", x.about(0, 0), 0x5C);
         Checks.due("HL", pair(x, 2), 0xC030);
 
         x = new Rom().put(0x100, 0x31, 0x34, 0x12, 0x08, 0x80, 0xC0).start();
-        step(x, 2);
+        Go.step(x, 2);
         Checks.due("SP low", x.memory(0, 0xC080), 0x34);
         Checks.due("SP high", x.memory(0, 0xC081), 0x12);
     }
 
     private static void stackAndCalls() {
         HandheldPair x = new Rom().put(0x100, 0x18, 0x4E).code(0x31, 0, 0xD0, 0x01, 0xFF, 0x9A, 0xC5, 0xF1, 0xF5, 0xD1).start();
-        step(x, 4);
+        Go.step(x, 4);
         Checks.due("pushed high", x.memory(0, 0xCFFF), 0x9A);
         Checks.due("pushed low", x.memory(0, 0xCFFE), 0xFF);
         Checks.due("SP", x.about(0, 8), 0xCFFE);
-        step(x, 1);
+        Go.step(x, 1);
         Checks.due("A", x.about(0, 0), 0x9A);
         Checks.due("F has four bits", x.about(0, 1), 0xF0);
-        step(x, 2);
+        Go.step(x, 2);
         Checks.due("DE of AF", pair(x, 1), 0x9AF0);
         x = new Rom().put(0x100, 0xCD, 0x34, 0x02).put(0x234, 0xC9).start();
-        step(x, 1);
+        Go.step(x, 1);
         Checks.due("call", x.about(0, 9), 0x234);
         Checks.due("call: pushed", x.memory(0, 0xFFFC) | x.memory(0, 0xFFFD) << 8, 0x103);
-        step(x, 1);
+        Go.step(x, 1);
         Checks.due("return", x.about(0, 9), 0x103);
         for (int y = 0; y < 8; y++) {
             x = at100(0xC7 | y << 3);
-            step(x, 1);
+            Go.step(x, 1);
             Checks.due("call of 8 * y", x.about(0, 9), 8 * y);
             Checks.due("pushed", x.memory(0, 0xFFFC) | x.memory(0, 0xFFFD) << 8, 0x101);
         }
         x = at100(0xE5, 0xD9);
-        step(x, 2);
+        Go.step(x, 2);
         Checks.due("return with IME 1: PC", x.about(0, 9), 0x14D);
         Checks.due("return with IME 1: IME", x.about(0, 10), 1);
         x = at100(0xE9);
-        step(x, 1);
+        Go.step(x, 1);
         Checks.due("PC = HL", x.about(0, 9), 0x14D);
         x = at100(0xC3, 0x00, 0xFF);
-        step(x, 1);
+        Go.step(x, 1);
         Checks.due("jump", x.about(0, 9), 0xFF00);
         x = at100(0x18, 0x80);
-        step(x, 1);
+        Go.step(x, 1);
         Checks.due("jump back", x.about(0, 9), 0x82);
     }
 
     private static void highMemory() {
         HandheldPair x = new Rom().put(0x100, 0x18, 0x4E)
             .code(0x3E, 0x42, 0xE0, 0x90, 0x0E, 0x91, 0x3C, 0xE2, 0xF0, 0x90, 0xF2, 0xFA, 0x90, 0xFF, 0xEA, 0x00, 0xC0).start();
-        step(x, 6);
+        Go.step(x, 6);
         Checks.due("n", x.memory(0, 0xFF90), 0x42);
         Checks.due("C", x.memory(0, 0xFF91), 0x43);
-        step(x, 1);
+        Go.step(x, 1);
         Checks.due("from n", x.about(0, 0), 0x42);
-        step(x, 1);
+        Go.step(x, 1);
         Checks.due("from C", x.about(0, 0), 0x43);
-        step(x, 2);
+        Go.step(x, 2);
         Checks.due("from nn, to nn", x.memory(0, 0xC000), 0x42);
         HandheldPair y = new Rom().put(0x100, 0x18, 0x4E).code(0x0E, 0x92, 0xE2, 0x0C, 0xF2).start();
-        step(y, 3);
+        Go.step(y, 3);
         Checks.due("an even C", y.memory(0, 0xFF92), 1);
         Checks.due("and not beside it", y.memory(0, 0xFF93), 0);
     }

@@ -12,20 +12,13 @@ public final class InterruptTest {
         Checks.end("InterruptTest");
     }
 
-    /** One step at a time: GOAL is brought just above TIME. */
-    static void step(HandheldPair x, int n) {
-        for (int i = 0; i < n; i++) {
-            x.run((int) (x.time(0) - x.count(1)) + 1);
-        }
-    }
-
     private static void interrupt() {
         HandheldPair x = new Rom().code(0x31, 0x00, 0xD0).ldh(0xFF, 0x1F).code(0xFB, 0x00, 0x00).start();
-        step(x, 6);
+        Go.step(x, 6);
         Checks.due("IME behind the next instruction", x.about(0, 10), 1);
         Checks.due("PC", x.about(0, 9), 0x159);
         long time = x.time(0);
-        step(x, 1);
+        Go.step(x, 1);
         Checks.due("five M-CYCLES", x.time(0), time + 20);
         Checks.due("PC", x.about(0, 9), 0x40);
         Checks.due("IME", x.about(0, 10), 0);
@@ -38,7 +31,7 @@ public final class InterruptTest {
         for (int asked = 1; asked < 32; asked++) {
             for (int allowed = 0xE1; allowed < 0x100; allowed += 6) {
                 HandheldPair x = new Rom().code(0x31, 0x00, 0xD0).ldh(0x0F, asked).ldh(0xFF, allowed).code(0xFB, 0x00, 0x00).start();
-                step(x, 9);
+                Go.step(x, 9);
                 int due = asked & allowed & 31;
                 int k = Integer.numberOfTrailingZeros(due);
                 Checks.due("PC of " + due, x.about(0, 9), due == 0 ? 0x15E : 0x40 + 8 * k);
@@ -50,32 +43,32 @@ public final class InterruptTest {
 
     private static void enableComesLate() {
         HandheldPair x = new Rom().code(0xFB, 0xFB, 0xFB, 0x00).start();
-        step(x, 2);
+        Go.step(x, 2);
         Checks.due("behind the first", x.about(0, 10), 0);
-        step(x, 1);
+        Go.step(x, 1);
         Checks.due("a second does not put it off", x.about(0, 10), 1);
-        step(x, 2);
+        Go.step(x, 2);
         Checks.due("it stays", x.about(0, 10), 1);
     }
 
     private static void disableStopsIt() {
         HandheldPair x = new Rom().ldh(0xFF, 1).code(0xFB, 0xF3, 0x00, 0x00, 0xFB, 0x00, 0xF3).start();
-        step(x, 7);
+        Go.step(x, 7);
         Checks.due("IME that was to come", x.about(0, 10), 0);
         Checks.due("PC", x.about(0, 9), 0x158);
         HandheldPair y = new Rom().code(0xFB, 0x00, 0xF3).start();
-        step(y, 3);
+        Go.step(y, 3);
         Checks.due("IME", y.about(0, 10), 1);
-        step(y, 1);
+        Go.step(y, 1);
         Checks.due("at once", y.about(0, 10), 0);
     }
 
     private static void pushChangesTheChoice() {
         HandheldPair x = new Rom().put(0x100, 0xC3, 0x00, 0x02)
             .put(0x200, 0x31, 0x00, 0x00, 0x3E, 0x01, 0xE0, 0xFF, 0xFB, 0x00, 0x00).start();
-        step(x, 6);
+        Go.step(x, 6);
         Checks.due("PC before", x.about(0, 9), 0x209);
-        step(x, 1);
+        Go.step(x, 1);
         Checks.due("IE was written with PC's high byte: none is left", x.memory(0, 0xFFFF), 2);
         Checks.due("PC", x.about(0, 9), 0);
         Checks.due("IF stays", x.memory(0, 0xFF0F), 0xE1);
@@ -83,13 +76,13 @@ public final class InterruptTest {
 
         HandheldPair y = new Rom().put(0x100, 0xC3, 0x00, 0x02)
             .put(0x200, 0x31, 0x00, 0x00, 0x3E, 0x07, 0xE0, 0x0F, 0x3E, 0x01, 0xE0, 0xFF, 0xFB, 0x00, 0x00).start();
-        step(y, 9);
+        Go.step(y, 9);
         Checks.due("another is chosen", y.about(0, 9), 0x48);
         Checks.due("it goes from IF", y.memory(0, 0xFF0F), 0xE5);
 
         HandheldPair z = new Rom().put(0x100, 0xC3, 0x00, 0x02)
             .put(0x200, 0x31, 0x01, 0x00, 0x3E, 0x01, 0xE0, 0xFF, 0xFB, 0x00, 0x00).start();
-        step(z, 7);
+        Go.step(z, 7);
         Checks.due("the low byte comes behind the choice", z.about(0, 9), 0x40);
         Checks.due("IE was written with PC's low byte", z.memory(0, 0xFFFF), 0x09);
     }
@@ -97,7 +90,7 @@ public final class InterruptTest {
     private static void haltWakes() {
         // The timer overflows 16 CLOCKS after it begins.
         HandheldPair x = new Rom().ldh(0x0F, 0).ldh(0xFF, 4).ldh(0x05, 0xFF).ldh(0x07, 5).code(0x76, 0x3C, 0x00).start();
-        step(x, 10);
+        Go.step(x, 10);
         Checks.due("HALT", x.about(0, 11), 1);
         x.run(40);
         Checks.due("it runs", x.about(0, 11), 0);
@@ -116,16 +109,16 @@ public final class InterruptTest {
 
     private static void haltWithoutHalting() {
         HandheldPair x = new Rom().ldh(0xFF, 1).code(0x76, 0x3C, 0x00).start();
-        step(x, 4);
+        Go.step(x, 4);
         Checks.due("no halt", x.about(0, 11), 0);
-        step(x, 1);
+        Go.step(x, 1);
         Checks.due("PC did not go on", x.about(0, 9), 0x155);
-        step(x, 1);
+        Go.step(x, 1);
         Checks.due("done twice", x.about(0, 0), 3);
         Checks.due("PC", x.about(0, 9), 0x156);
 
         HandheldPair y = new Rom().ldh(0xFF, 1).code(0x76, 0x06, 0x17, 0x00).start();
-        step(y, 5);
+        Go.step(y, 5);
         Checks.due("the byte is its own operand", y.about(0, 2), 0x06);
         Checks.due("PC", y.about(0, 9), 0x156);
     }

@@ -69,6 +69,21 @@ final class Rom {
         return code(0x18, 0xFE);
     }
 
+    /** Spends just so many DOTS, a multiple of 4, with A, B, C and F; not FAST. */
+    Rom spend(long dots) {
+        long left = dots;
+        while (left >= 1835016) {
+            code(0x01, 0, 0, 0x0B, 0x78, 0xB1, 0x20, 0xFB);
+            left -= 1835016;
+        }
+        int rounds = (int) ((left - 8) / 28);
+        if (left >= 36) {
+            code(0x01, rounds, rounds >> 8, 0x0B, 0x78, 0xB1, 0x20, 0xFB);
+            left -= 8 + 28L * rounds;
+        }
+        return nops((int) left / 4);
+    }
+
     static int sumOf(int[] bytes) {
         int sum = 0;
         for (int i = 0x134; i <= 0x14C; i++) {
@@ -77,30 +92,36 @@ final class Rom {
         return sum & 255;
     }
 
-    /** Brings all to the tape: zeros by end, the rest by feed. */
+    /** Brings all to the tape: zeros by end, the rest by feed, in few calls. */
     void bringTo(HandheldPair x) {
         if (bytes.length > 0x14D) {
             bytes[0x14D] = sumOf(bytes);
         }
-        x.end(0);
-        for (int from = 0; from < bytes.length; from += 20) {
-            int[] words = new int[5];
-            boolean zero = true;
-            for (int i = 0; i < 20 && from + i < bytes.length; i++) {
-                words[i / 4] |= bytes[from + i] << 24 - 8 * (i % 4);
-                zero &= bytes[from + i] == 0;
+        int length = x.end(0);
+        for (int from = nextUsed(0); from < bytes.length; from = nextUsed(length)) {
+            int begin = Math.min(from, 65516);
+            if (begin != length) {
+                length = x.end(begin);
             }
-            if (from + 20 > 65536) {
-                x.end(bytes.length);
-                for (int i = from; i < bytes.length; i++) {
-                    x.patch(i, bytes[i], false);
-                }
-            } else if (!zero) {
-                x.end(from);
-                x.feed(words[0], words[1], words[2], words[3], words[4]);
-            }
+            length = x.feed(word(length), word(length + 4), word(length + 8), word(length + 12), word(length + 16));
         }
         x.end(bytes.length);
+    }
+
+    private int nextUsed(int from) {
+        int place = from;
+        while (place < bytes.length && bytes[place] == 0) {
+            place++;
+        }
+        return place;
+    }
+
+    private int word(int from) {
+        int word = 0;
+        for (int i = from; i < from + 4; i++) {
+            word = word << 8 | (i < bytes.length ? bytes[i] : 0);
+        }
+        return word;
     }
 
     int insertInto(HandheldPair x, int c) {

@@ -41,6 +41,10 @@ public final class ScreenTest {
         HandheldPair x = new Rom().put(0x100, 0x76).start();
         Checks.due("at first", mode(x), 0);
         for (int dots = 4; dots <= 2 * 456; dots += 4) {
+            if (dots == 460) {
+                x = new Rom().put(0x100, 0x76).start();
+                x.run(456);
+            }
             x.run(4);
             int last = (dots - 1) % 456;
             Checks.due("mode at " + dots, mode(x), last < 80 ? 2 : last < 252 ? 3 : 0);
@@ -63,8 +67,12 @@ public final class ScreenTest {
     }
 
     private static void lines() {
-        HandheldPair x = new Rom().ldh(0x0F, 0).ldh(0x45, 9).code(0x76).start();
+        HandheldPair x = null;
         for (int line = 1; line <= 160; line++) {
+            if (line % 80 == 1) {
+                x = new Rom().ldh(0x0F, 0).ldh(0x45, 9).code(0x76).start();
+                Go.toTime(x, (line - 1) * 456);
+            }
             x.run(456);
             int ly = line % 154;
             Checks.due("LY", x.memory(0, 0xFF44), ly);
@@ -86,26 +94,22 @@ public final class ScreenTest {
         Checks.due("mode 2", mode(x), 2);
     }
 
-    /** The DOTS behind which IF has bit 1 for the first time, in steps of 4. */
-    private static int firstStat(int stat, int lyc) {
+    /** IF has bit 1 for the first time behind so many DOTS, or, if they are 0, never. */
+    private static void dueStat(String what, int stat, int lyc, int dots) {
         HandheldPair x = new Rom().ldh(0x45, lyc).ldh(0x41, stat).ldh(0x0F, 0).code(0x76).start();
-        x.run(76);
-        for (int dots = 76; dots < 150000; dots += 4) {
-            if ((x.memory(0, 0xFF0F) & 2) != 0) {
-                return dots;
-            }
-            x.run(4);
-        }
-        return -1;
+        Go.toTime(x, dots == 0 ? 150000 : dots - 4);
+        Checks.due(what + ": not yet", x.memory(0, 0xFF0F) & 2, 0);
+        x.run(4);
+        Checks.due(what, x.memory(0, 0xFF0F) & 2, dots == 0 ? 0 : 2);
     }
 
     private static void statLine() {
-        Checks.due("mode 0", firstStat(0x08, 200), 256);
-        Checks.due("mode 1", firstStat(0x10, 200), 144 * 456 + 4);
-        Checks.due("mode 2", firstStat(0x20, 200), 456 + 4);
-        Checks.due("LYC, at the end of the line before", firstStat(0x40, 5), 5 * 456);
-        Checks.due("LYC 153", firstStat(0x40, 153), 153 * 456);
-        Checks.due("nothing", firstStat(0x07, 5), -1);
+        dueStat("mode 0", 0x08, 200, 256);
+        dueStat("mode 1", 0x10, 200, 144 * 456 + 4);
+        dueStat("mode 2", 0x20, 200, 456 + 4);
+        dueStat("LYC, at the end of the line before", 0x40, 5, 5 * 456);
+        dueStat("LYC 153", 0x40, 153, 153 * 456);
+        dueStat("nothing", 0x07, 5, 0);
         HandheldPair x = new Rom().ldh(0x0F, 0).ldh(0x41, 0x40).stay().start();
         x.run(56);
         Checks.due("behind a write of STAT", x.memory(0, 0xFF0F), 0xE2);
@@ -147,12 +151,12 @@ public final class ScreenTest {
         HandheldPair x = new Rom().ldh(0x40, 0).poke(0x8000, 0x12).poke(0xFE00, 0x34).ldh(0x40, 0x91).code(0x76).start();
         x.run(16 + 20 + 24 + 24 + 20 + 4);
         long begin = x.time(0) - 4;
-        for (int i = 0; i < 120; i++) {
+        for (int i = 0; i < 60; i++) {
             int mode = mode(x);
             Checks.due("VIDEO in mode " + mode, x.memory(0, 0x8000), mode == 3 ? 255 : 0x12);
             Checks.due("sprites in mode " + mode, x.memory(0, 0xFE00), mode >= 2 ? 255 : 0x34);
             Checks.due("none in mode " + mode, x.memory(0, 0xFEA0), 0);
-            x.run(4);
+            x.run(8);
         }
         Checks.due("TIME", x.time(0), begin + 4 + 480);
         // The write to VIDEO falls into mode 3, the one to sprites into mode 2.

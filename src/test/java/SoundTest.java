@@ -72,12 +72,12 @@ public final class SoundTest {
             }
             HandheldPair x = halted(rom.ldh(0x1A, 0x80).ldh(0x1C, code << 5).ldh(0x1D, 0xF0).ldh(0x1E, 0x87));
             runTo(x, 16 + 20 * 20);
-            for (int dots = 0; dots < 1200; dots += 4) {
+            for (int dots = 0; dots < 1200; dots += 8) {
                 int position = dots / 32 % 32;
                 int both = (position / 2 * 0x37 + 0x5B) & 255;
                 int half = position % 2 == 0 ? both / 16 : both % 16;
                 Checks.due("LEVEL at " + dots, x.about(0, 18), half >> shifts[code]);
-                x.run(4);
+                x.run(8);
             }
         }
     }
@@ -87,12 +87,15 @@ public final class SoundTest {
         for (int code = 0; code < 8; code++) {
             boolean narrow = code % 2 == 1;
             int control = code | (narrow ? 8 : 0) | (code % 3) << 4;
-            HandheldPair x = halted(new Rom().ldh(0x21, 0xA0).ldh(0x22, control).ldh(0x23, 0x80));
-            runTo(x, 76);
+            HandheldPair x = null;
             int period = bases[code] << code % 3;
             int noise = 0x7FFF;
             int left = period;
             for (int dots = 0; dots < 4000; dots += 4) {
+                if (dots % 800 == 0) {
+                    x = halted(new Rom().ldh(0x21, 0xA0).ldh(0x22, control).ldh(0x23, 0x80));
+                    runTo(x, 76 + dots);
+                }
                 Checks.due("LEVEL at " + dots, x.about(0, 19), noise % 2 == 0 ? 10 : 0);
                 x.run(4);
                 left -= 4;
@@ -197,16 +200,12 @@ public final class SoundTest {
 
     private static void dueFrequency(String what, HandheldPair x, int steps, int frequency) {
         runTo(x, (long) steps * STEP_DOTS);
-        Checks.due(what, positionDots(x), 4 * (2048 - frequency));
+        dueAtPlace7(what, x, 4 * (2048 - frequency));
     }
 
     private static void sweepGoesOn() {
         // The sweep comes with STEPS 2 and 6, which end 3 and 7 times 8,192 DOTS.
         HandheldPair x = sweeping(0x12, 1024);
-        runTo(x, STEP_DOTS);
-        x.keep(1);
-        runTo(x, 7L * STEP_DOTS);
-        x.take(1);
         dueFrequency("a fourth more", x, 3, 1280);
         dueFrequency("a fourth more", x, 7, 1600);
         HandheldPair y = sweeping(0x1A, 1900);
@@ -223,22 +222,34 @@ public final class SoundTest {
         dueFrequency("it does not count if both were 0 at the trigger", u, 40, 1024);
     }
 
-    /** How long channel 1 is at place 7, the only one of duty 0; the state is taken back. */
-    private static int positionDots(HandheldPair x) {
+    /** Channel 1 is at place 7, the only one of duty 0, for just so many DOTS; the state is taken back. */
+    private static void dueAtPlace7(String what, HandheldPair x, int dots) {
         x.keep(0);
-        for (int i = 0; i < 20000 && x.about(0, 16) != 0; i++) {
-            x.run(4);
+        int step = Math.max(4, dots / 8 * 4);
+        for (int i = 0; i < 6 && x.about(0, 16) != 0; i++) {
+            x.run(step);
         }
-        for (int i = 0; i < 20000 && x.about(0, 16) == 0; i++) {
-            x.run(4);
+        x.keep(1);
+        for (int i = 0; i < 40 && x.about(0, 16) == 0; i++) {
+            x.keep(1);
+            x.run(step);
         }
-        int dots = 0;
-        for (int i = 0; i < 20000 && x.about(0, 16) != 0; i++) {
-            x.run(4);
-            dots += 4;
+        // The rise lies within the last step: it is cut in halves.
+        for (int left = step; left > 4; left -= left / 8 * 4) {
+            x.take(1);
+            x.run(left / 8 * 4);
+            if (x.about(0, 16) == 0) {
+                x.keep(1);
+            }
         }
+        x.take(1);
+        x.run(4);
+        Checks.due(what + ": it rises", x.about(0, 16) > 0 ? 1 : 0, 1);
+        x.run(dots - 4);
+        Checks.due(what + ": still", x.about(0, 16) > 0 ? 1 : 0, 1);
+        x.run(4);
+        Checks.due(what + ": it falls", x.about(0, 16), 0);
         x.take(0);
-        return dots;
     }
 
     private static void dueSweepEnds(String what, int sweep, int frequency, long end) {
