@@ -216,6 +216,11 @@ public final class BlockEdgeTest {
             Checks.due("nothing was copied", x.memory(0, 0x8000), 0);
             Checks.due("55", x.memory(0, 0xFF55), v | 0x80);
         }
+        // With one block left it is under way, too.
+        HandheldPair one = block(data(0x1000), 0x400, 0x8000, 0x80).ldh(0x55, 0x03).code(0x76).start();
+        one.run(136);
+        Checks.due("no idle M-CYCLE", one.time(0), 136);
+        Checks.due("55", one.memory(0, 0xFF55), 0x83);
         // When it is done it is no more under way: a write goes at once.
         HandheldPair y = block(data(0x1000), 0x400, 0x8000, 0x80).spend(400).ldh(0x55, 0x00).stay().start();
         y.run(116 + 32 + 420);

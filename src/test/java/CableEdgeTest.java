@@ -12,6 +12,7 @@ public final class CableEdgeTest {
         writeWithoutBitSevenStops();
         writeOfSbMidway();
         bitsAtPowerOn();
+        asksForNothingElse();
         Checks.end("CableEdgeTest");
     }
 
@@ -161,6 +162,17 @@ public final class CableEdgeTest {
         dueState("SB is written, all else goes on", x, 0, 0x80, 0xFF, 7);
         x.run(1024 - 620);
         dueState("its bit 7 went", x, 1, 0x01, 0xFE, 6);
+    }
+
+    /** Interrupt 3, of each that has had 8, and no other; none before. */
+    private static void asksForNothingElse() {
+        HandheldPair x = new Rom().ldh(0x0F, 0).ldh(2, 0x81).code(0x76).start();
+        new Rom().ldh(0x0F, 0).ldh(2, 0x80).code(0x76).insertInto(x, 1);
+        x.run(56 + 7 * 512);
+        Checks.due("IF before", x.memory(0, 0xFF0F) << 8 | x.memory(1, 0xFF0F), 0xE0E0);
+        x.run(512);
+        Checks.due("IF", x.memory(0, 0xFF0F), 0xE8);
+        Checks.due("IF of the other", x.memory(1, 0xFF0F), 0xE8);
     }
 
     private static void bitsAtPowerOn() {

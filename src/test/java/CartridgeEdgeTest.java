@@ -195,6 +195,13 @@ public final class CartridgeEdgeTest {
         }
         HandheldPair x = behind(3, 2, 0, 10, 0x4000, 3, 0x6000, 1, 0xA000, 9);
         Checks.due("modulo one bank", x.saved(0, 0), 9);
+        HandheldPair y = behind(3, 3, 0, 10, 0x4000, 3, 0xA000, 9);
+        Checks.due("MODE is 0 at power on", y.saved(0, 0), 9);
+        HandheldPair z = behind(3, 3, 0, 10, 0x4000, 3, 0xA000, 9, 0x6000, 1);
+        z.power(0);
+        z.run(16 + 3 * 24);
+        Checks.due("MODE is 0 behind power", z.memory(0, 0xA000), 9);
+        Checks.due("nothing came to bank 3", z.saved(0, 3 * 8192), 0);
     }
 
     /** M2: byte (address & 511), read with its four high bits set, of a written one the low four kept. */

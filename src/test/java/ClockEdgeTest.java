@@ -14,6 +14,7 @@ public final class ClockEdgeTest {
         bitsThatAreKept();
         latchNeedsZeroThenOne();
         latchedStays();
+        newCartridgeHasNoZero();
         Checks.end("ClockEdgeTest");
     }
 
@@ -30,6 +31,8 @@ public final class ClockEdgeTest {
         Checks.due("the second", secondsAt(SECOND), 1);
         Checks.due("4 DOTS before the next", secondsAt(2 * SECOND - 4), 1);
         Checks.due("the next", secondsAt(2 * SECOND), 2);
+        Checks.due("4 DOTS before the fourth", secondsAt(4 * SECOND - 4), 3);
+        Checks.due("the fourth", secondsAt(4 * SECOND), 4);
     }
 
     /** The same, since a write of 5 to seconds that ends behind some odd thousands of DOTS. */
@@ -175,6 +178,18 @@ public final class ClockEdgeTest {
         Checks.due("0 below $6000", latchedBy(0x5FFF, 0, 0x6000, 1), 0);
         Checks.due("1 below $6000", latchedBy(0x6000, 0, 0x5FFF, 1), 0);
         Checks.due("others between them do not count", latchedBy(0x6000, 0, 0x5FFF, 5, 0x6000, 1), 1);
+    }
+
+    /** A 0 that was written to another cartridge does not count. */
+    private static void newCartridgeHasNoZero() {
+        HandheldPair x = new Rom().kind(0x10, 0).poke(0x6000, 0).stay().start();
+        x.run(100);
+        new Rom().kind(0x10, 0).poke(0, 10).poke(0x4000, 8).spend(SECOND).poke(0x6000, 1).nops(10).poke(0x6000, 0).poke(0x6000, 1).stay().insertInto(x, 0);
+        long from = x.time(0);
+        Go.toTime(x, from + 16 + 48 + SECOND + 24);
+        Checks.due("1 alone", x.memory(0, 0xA000), 0);
+        Go.toTime(x, from + 16 + 48 + SECOND + 24 + 88);
+        Checks.due("0, 1", x.memory(0, 0xA000), 1);
     }
 
     /** Read is the LATCHED clock: it stays until it is latched once more, by a 0 and a 1 anew. */

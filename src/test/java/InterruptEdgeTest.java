@@ -7,6 +7,8 @@ public final class InterruptEdgeTest {
         enableBehindTheNext();
         enableTwice();
         enableThenDisable();
+        disableThenEnable();
+        powerForgetsWhatIsToCome();
         enableThenReturn();
         returnWithIme();
         stackRunsOver();
@@ -88,6 +90,35 @@ public final class InterruptEdgeTest {
             Checks.due("IME", x.about(0, 10), 0);
         }
         Checks.due("no interrupt", x.about(0, 9), 0x159);
+    }
+
+    private static void disableThenEnable() {
+        HandheldPair x = new Rom().code(0xF3, 0xFB, 0x00, 0xF3, 0xF3, 0xFB, 0xF3, 0xFB, 0x00).start();
+        Go.step(x, 4);
+        Checks.due("IME", x.about(0, 10), 1);
+        Go.step(x, 3);
+        Checks.due("IME", x.about(0, 10), 0);
+        Go.step(x, 3);
+        Checks.due("IME", x.about(0, 10), 1);
+    }
+
+    /** POWER ON: IME 0, and nothing is to come; the first byte is read once. */
+    private static void powerForgetsWhatIsToCome() {
+        HandheldPair x = new Rom().put(0x100, 0xFB, 0x00, 0x00).start();
+        Go.step(x, 1);
+        x.power(0);
+        Checks.due("IME", x.about(0, 10), 0);
+        HandheldPair y = new Rom().code(0xFB, 0x00, 0x00).start();
+        Go.step(y, 2);
+        y.power(0);
+        Go.step(y, 1);
+        Checks.due("IME behind the next instruction", y.about(0, 10), 0);
+        HandheldPair z = new Rom().ldh(0xFF, 1).code(0x76, 0x00).start();
+        Go.step(z, 4);
+        Checks.due("no halt", z.about(0, 11), 0);
+        z.power(0);
+        Go.step(z, 1);
+        Checks.due("the first byte is read once", z.about(0, 9), 0x150);
     }
 
     private static void enableThenReturn() {

@@ -13,6 +13,7 @@ public final class MemoryEdgeTest {
         spritesAreBlockedInModes2And3();
         writesAreBlockedToo();
         coloursAreBlockedInMode3();
+        coloursReadInEachMode();
         indexesRunOver();
         readsLeaveTheIndex();
         lyIsNotWritten();
@@ -46,7 +47,8 @@ public final class MemoryEdgeTest {
     /** $E000 to $FDFF as $C000 on, both ways. */
     private static void echoOfWork() {
         HandheldPair x = written(new Rom(), 0xE000, 0xEFFF, 0xF000, 0xFDFF, 0xC010, 0xDDFE, 0xDE00);
-        int[][] want = {{0xC000, 1}, {0xCFFF, 2}, {0xD000, 3}, {0xDDFF, 4}, {0xE010, 5}, {0xFDFE, 6}, {0xDE00, 7}, {0xFE00, 0}};
+        int[][] want = {{0xC000, 1}, {0xCFFF, 2}, {0xD000, 3}, {0xDDFF, 4}, {0xE010, 5}, {0xFDFE, 6}, {0xDE00, 7}, {0xFE00, 0},
+            {0xE000, 1}, {0xEFFF, 2}, {0xF000, 3}, {0xFDFF, 4}, {0xDFFF, 0}, {0xE001, 0}};
         for (int[] w : want) {
             Checks.due("at " + Integer.toHexString(w[0]), x.memory(0, w[0]), w[1]);
         }
@@ -218,6 +220,20 @@ public final class MemoryEdgeTest {
                     x.run(12);
                 }
                 Checks.due("written by " + c[0], x.memory(0, 0xFF01 + low), c[1] == 1 ? 0x31 : 255);
+            }
+        }
+    }
+
+    /** Read, they are $FF in mode 3 alone. */
+    private static void coloursReadInEachMode() {
+        int[] firsts = {0x68, 0x6A};
+        int[][] cases = {{4, 0x21}, {80, 0x21}, {84, 255}, {252, 255}, {256, 0x21}, {456, 0x21}, {460, 0x21}, {144 * 456 + 100, 0x21}};
+        for (int low : firsts) {
+            for (int[] c : cases) {
+                HandheldPair x = new Rom().colour().ldh(0x40, 0).ldh(low, 0x05).ldh(low + 1, 0x21).ldh(0x40, 0x91).code(0x76).start();
+                x.run(96 + c[0]);
+                Checks.due("read behind " + c[0], x.memory(0, 0xFF01 + low), c[1]);
+                Checks.due("the index is not blocked", x.memory(0, 0xFF00 + low), 0x45);
             }
         }
     }

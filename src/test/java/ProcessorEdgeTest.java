@@ -149,10 +149,13 @@ public final class ProcessorEdgeTest {
         Go.step(x, 4);
         Checks.due("low at $FFFF", x.memory(0, 0xFFFF), 0x5C);
         Checks.due("high at 0: ON of the cartridge", x.memory(0, 0xA000), 0);
-        HandheldPair y = withSp(0x0A5C, 0x08, 0xFF, 0xC0);
-        Go.step(y, 4);
-        Checks.due("low at $C0FF", y.memory(0, 0xC0FF), 0x5C);
-        Checks.due("high at $C100", y.memory(0, 0xC100), 0x0A);
+        int[] values = {0x0A5C, 0xFFFF, 0x0001, 0x0100};
+        for (int sp : values) {
+            HandheldPair y = withSp(sp, 0x08, 0xFF, 0xC0);
+            Go.step(y, 4);
+            Checks.due("low at $C0FF", y.memory(0, 0xC0FF), sp & 255);
+            Checks.due("high at $C100", y.memory(0, 0xC100), sp >> 8);
+        }
     }
 
     private static void spPlusD() {

@@ -18,6 +18,7 @@ public final class ScreenEdgeTest {
         statRisesOnce();
         statBehindWrites();
         turnedOff();
+        turnedOffByItsBitAlone();
         turnedOffInEachMode();
         offTwiceAndOnTwice();
         pictureStays();
@@ -264,6 +265,17 @@ public final class ScreenEdgeTest {
         x.run(80000);
         Checks.due("it stays so", x.memory(0, 0xFF44) + x.about(0, 14) + mode(x), 0);
         Checks.due("no line 144", x.memory(0, 0xFF0F), 0xE1);
+    }
+
+    /** By bit 7 alone, whatever else LCDC has. */
+    private static void turnedOffByItsBitAlone() {
+        int[][] cases = {{0x80, 0x00, 1}, {0xFF, 0x7F, 1}, {0x80, 0x7F, 1}, {0xFF, 0x80, 0}, {0x80, 0xFF, 0}};
+        for (int[] c : cases) {
+            HandheldPair x = new Rom().ldh(0x40, c[0]).spend(1000).ldh(0x40, c[1]).nops(10).code(0x76).start();
+            x.run(16 + 20 + 1000 + 20);
+            Checks.due("LY of " + c[0] + ", then " + c[1], x.memory(0, 0xFF44), c[2] == 1 ? 0 : 2);
+            Checks.due("dot", x.about(0, 14), c[2] == 1 ? 0 : 1056 - 2 * LINE);
+        }
     }
 
     private static void turnedOffInEachMode() {

@@ -27,6 +27,10 @@ public final class SoundEdgeTest {
         onBeginsAtStepZero();
         heardIsThirtyTwoBits();
         heardOfAllChannels();
+        envelopesOfThree();
+        heardOfEach();
+        sweepAtItsDot();
+        powerBeginsAnew();
         Checks.end("SoundEdgeTest");
     }
 
@@ -440,6 +444,93 @@ public final class SoundEdgeTest {
             want = want * 31 + 15 * 8 * 512 + 15 * 8;
             x.run(i == 0 ? 4 : 64);
             Checks.due("HEARD", x.about(0, 20), want);
+        }
+    }
+
+    /** 7: envelopes of 1, 2, 4; the greatest LEVEL of a channel with duty 3, before and behind STEP 7. */
+    private static void envelopesOfThree() {
+        int[] channels = {0, 1, 3};
+        for (int channel : channels) {
+            int b = base(channel);
+            HandheldPair x = halted(new Rom().ldh(b + 1, 0xC0).ldh(b + 2, 0x91).ldh(b + 3, channel == 3 ? 0 : 0xFF).ldh(b + 4, 0x87));
+            for (int steps = 0; steps < 3; steps++) {
+                Go.toTime(x, 65536L * (steps + 1) - 500);
+                int most = 0;
+                for (int i = 0; i < 60; i++) {
+                    most = Math.max(most, x.about(0, 16 + channel));
+                    x.run(4);
+                }
+                Checks.due("channel " + channel + " behind " + steps, most, 9 - steps);
+            }
+        }
+    }
+
+    /** Duty 3 of channel 1, its position by a count of its own; the sweep changes it at just its STEP. */
+    private static void sweepAtItsDot() {
+        int[] frequencies = {2000, 1990, 1985, 1972};
+        for (int frequency : frequencies) {
+            HandheldPair x = halted(new Rom().ldh(0x26, 0).ldh(0x26, 0x80).ldh(0x10, 0x17).ldh(0x11, 0xC0).ldh(0x12, 0xF0)
+                .ldh(0x13, frequency).ldh(0x14, 0x80 | frequency >> 8));
+            int begin = 16 + 7 * 20;
+            int period = 4 * (2048 - frequency);
+            int place = 0;
+            Go.toTime(x, 3 * STEP - 400);
+            for (int dot = begin + 1; dot <= 3 * STEP + 500; dot++) {
+                // The STEP comes with the CLOCKS, before the DOTS of its M-CYCLE.
+                int now = dot <= 3 * STEP - 4 ? frequency : frequency + (frequency >> 7);
+                period--;
+                if (period == 0) {
+                    period = 4 * (2048 - now);
+                    place = (place + 1) % 8;
+                }
+                if (dot > 3 * STEP - 400 && dot % 4 == 0) {
+                    x.run(4);
+                    Checks.due("LEVEL at " + dot + " of " + frequency, x.about(0, 16), place == 0 || place == 7 ? 0 : 15);
+                }
+            }
+        }
+    }
+
+    /** POWER ON: STEP, PERIODS and positions from 0, the 64 DOTS of HEARD, too. */
+    private static void powerBeginsAnew() {
+        for (int odd = 0; odd < 4; odd++) {
+            HandheldPair x = halted(begin(new Rom(), 1, 0x3F, 0xC0));
+            Go.toTime(x, STEP + 5000 + 20 * odd);
+            long from = x.power(0);
+            Go.toTime(x, from + STEP - 4);
+            Checks.due("ON", on(x), 2);
+            x.run(4);
+            Checks.due("STEP 0", on(x), 0);
+        }
+        // Duty 0 has place 7 alone: PERIOD 0 makes position 1 at DOT 1, the next 8,191 DOTS later: position 7 comes at DOT 49,152.
+        for (int odd = 0; odd < 16; odd++) {
+            for (int late = 0; late < 2; late++) {
+                int end = 49148 + 4 * late;
+                HandheldPair x = halted(new Rom().spend(end - 56).ldh(0x17, 0xF0).ldh(0x19, 0x80));
+                x.run(1000 + 4 * odd);
+                long from = x.power(0);
+                Go.toTime(x, from + end);
+                Checks.due("ON", on(x), 2);
+                Checks.due("place 6, then 7", x.about(0, 17), 15 * late);
+            }
+        }
+    }
+
+    /** Each of the four is heard, and all of them together. */
+    private static void heardOfEach() {
+        for (int channel = 0; channel < 5; channel++) {
+            Rom rom = new Rom().ldh(0x30, 0xFF).ldh(0x1A, 0x80).ldh(0x1C, 0x20).ldh(0x12, 0x30).ldh(0x17, 0x50).ldh(0x21, 0x70).ldh(0x22, 8)
+                .ldh(0x11, 0xC0).ldh(0x16, 0xC0).ldh(0x24, 0x10).ldh(0x25, channel == 4 ? 0xFF : 0x11 << channel)
+                .ldh(0x14, 0x80).ldh(0x19, 0x80).ldh(0x1E, 0x80).ldh(0x23, 0x80);
+            HandheldPair x = halted(rom);
+            x.run(448);
+            int before = x.about(0, 20);
+            x.run(60);
+            int[] levels = {x.about(0, 16), x.about(0, 17), x.about(0, 18), x.about(0, 19)};
+            x.run(4);
+            int sum = channel == 4 ? levels[0] + levels[1] + levels[2] + levels[3] : levels[channel];
+            Checks.due("LEVELS", levels[0] * 256 + levels[1] * 16 + levels[2], 0x35F);
+            Checks.due("HEARD of " + channel, x.about(0, 20), before * 31 + 2 * sum * 512 + sum);
         }
     }
 

@@ -12,6 +12,8 @@ public final class TimerEdgeTest {
         tacThatMakesNoFall();
         waitGoesOnWithoutTac();
         divideByStop();
+        soundLineOfAFastProcessor();
+        powerEndsTheWait();
         Checks.end("TimerEdgeTest");
     }
 
@@ -157,6 +159,39 @@ public final class TimerEdgeTest {
         x.run(4);
         Checks.due("TMA", x.memory(0, 0xFF05), 0x44);
         Checks.due("interrupt 2", x.memory(0, 0xFF0F), 0xE4);
+    }
+
+    /** FAST: SOUND LINE is bit 13: DIVIDER made 0 is a STEP with it, and none with bit 12 and all below. */
+    private static void soundLineOfAFastProcessor() {
+        int[][] cases = {{8188, 0}, {8192, 1}, {16380, 1}, {4096, 0}};
+        for (int[] c : cases) {
+            for (int stop = 0; stop < 2; stop++) {
+                // DIVIDER is 0 at 40; then 3 writes take 60 CLOCKS, the last instruction 20 or 4.
+                Rom rom = new Rom().colour().ldh(0x4D, 1).code(0x10, 0).ldh(0x17, 0xF0).ldh(0x16, 0x3F).ldh(0x19, 0xC0);
+                if (stop == 1) {
+                    rom.spend(c[0] - 60 - 4).code(0x10, 0);
+                } else {
+                    rom.spend(c[0] - 60 - 20).ldh(4, 0);
+                }
+                HandheldPair x = halted(rom);
+                x.run(40 + c[0] / 2);
+                Checks.due("TIME", x.time(0), 40 + c[0] / 2);
+                Checks.due("DIVIDER", x.about(0, 12), 0);
+                Checks.due("DIVIDER was " + c[0], x.memory(0, 0xFF26), c[1] == 1 ? 0xF0 : 0xF2);
+            }
+        }
+    }
+
+    /** POWER ON: WAIT is 0, so that no TMA comes and nothing is asked for. */
+    private static void powerEndsTheWait() {
+        HandheldPair x = halted(new Rom().ldh(0x0F, 0).ldh(6, 0x44).ldh(7, 5).ldh(5, 0xFF));
+        x.run(112);
+        Checks.due("TIMA", x.memory(0, 0xFF05), 0);
+        x.power(0);
+        x.run(16);
+        Checks.due("TIMA", x.memory(0, 0xFF05), 0);
+        Checks.due("TMA", x.memory(0, 0xFF06), 0);
+        Checks.due("IF", x.memory(0, 0xFF0F), 0xE1);
     }
 
     /** STOP: DIVIDER 0, by which both lines may fall. */
