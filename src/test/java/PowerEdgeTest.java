@@ -13,6 +13,7 @@ public final class PowerEdgeTest {
         timeStays();
         otherIsNotTouched();
         waitingEnds();
+        lengthsAndSweepsEnd();
         Checks.end("PowerEdgeTest");
     }
 
@@ -214,6 +215,45 @@ public final class PowerEdgeTest {
         Checks.due("TIME", x.time(1), same.time(1));
         Checks.due("picture", x.picture(1), same.picture(1));
         Checks.due("its RAM", x.saved(1, 0), same.saved(1, 0));
+    }
+
+    /** Runs the first code; behind power, since RAM's first byte is 1 then, the second. */
+    private static Rom twoCodes(Rom first, Rom second) {
+        Rom rom = new Rom(0x1000).kind(3, 2).poke(0, 10).code(0xFA, 0, 0xA0, 0xB7, 0xC2, 0x00, 0x04).poke(0xA000, 1);
+        for (int i = 0x150; i < first.here(); i++) {
+            rom.code(first.bytes[i]);
+        }
+        rom.code(0x76);
+        for (int i = 0x150; i < second.here(); i++) {
+            rom.put(0x400 + i - 0x150, second.bytes[i]);
+        }
+        return rom.put(0x400 + second.here() - 0x150, 0x76);
+    }
+
+    private static void lengthsAndSweepsEnd() {
+        for (int channel = 0; channel < 4; channel++) {
+            int base = 0x10 + 5 * channel;
+            HandheldPair x = twoCodes(new Rom().ldh(base + 1, 0xFF), new Rom().ldh(channel == 2 ? 0x1A : base + 2, 0xF0).ldh(base + 4, 0xC0)).start();
+            x.run(500);
+            x.power(0);
+            x.run(20000);
+            Checks.due("LENGTH 0 became 64, not 1", x.memory(0, 0xFF26), 0xF0 | 1 << channel);
+        }
+        // The sweep of 1000 goes beyond 2047 at its first STEP, if it counts; it counts only behind a trigger.
+        HandheldPair x = twoCodes(new Rom().ldh(0x10, 0x12).ldh(0x12, 0xF0).ldh(0x13, 0xE8).ldh(0x14, 0x83),
+            new Rom().ldh(0x10, 0x12).ldh(0x11, 0xC0).ldh(0x12, 0xF0).ldh(0x13, 0xFF).ldh(0x14, 0x07).spend(4 * 8192).ldh(0x10, 0).ldh(0x14, 0x87)).start();
+        x.run(500);
+        Checks.due("ON", x.memory(0, 0xFF26), 0xF1);
+        long from = x.power(0);
+        Go.toTime(x, from + 5 * 8192);
+        Checks.due("ON", x.memory(0, 0xFF26), 0xF1);
+        // Frequency 2047 as it was written: 4 DOTS a place, so that of 8 places two beside each other are 0.
+        int zeros = 0;
+        for (int i = 0; i < 16; i++) {
+            zeros += x.about(0, 16) == 0 ? 1 : 0;
+            x.run(4);
+        }
+        Checks.due("places of duty 3 that are 0", zeros, 4);
     }
 
     private static void waitingEnds() {

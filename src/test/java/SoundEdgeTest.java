@@ -8,6 +8,7 @@ public final class SoundEdgeTest {
         lengthWithoutDac();
         lengthCountsOnlyWithItsBit();
         lengthStaysWhileOff();
+        triggerNeedsBitSeven();
         volumeAtFifteen();
         volumeAtZero();
         envelopeOfPaceSeven();
@@ -15,6 +16,7 @@ public final class SoundEdgeTest {
         sweepBeyond2047();
         sweepDownToZero();
         sweepPaceZeroIsEight();
+        sweepLeavesBitSix();
         sweepCountsByItsRegisterAtTheTrigger();
         shortestAndLongestPeriods();
         positionsRunOver();
@@ -112,11 +114,38 @@ public final class SoundEdgeTest {
     }
 
     private static void lengthCountsOnlyWithItsBit() {
+        for (int channel = 0; channel < 4; channel++) {
+            HandheldPair y = halted(begin(new Rom(), channel, 0xFF, 0xBF));
+            y.run(3 * STEP);
+            Checks.due("all bits but bit 6", on(y), 1 << channel);
+        }
         HandheldPair x = halted(begin(new Rom(), 1, 0x3F, 0x80).spend(4 * STEP).ldh(0x19, 0x40));
         Go.toTime(x, 5 * STEP - 4);
         Checks.due("ON", on(x), 2);
         x.run(4);
         Checks.due("bit 6 came later, without bit 7", on(x), 0);
+    }
+
+    /** A write with bit 7; all others begin nothing, and leave PERIOD and VOLUME as they are. */
+    private static void triggerNeedsBitSeven() {
+        int[] values = {0x00, 0x01, 0x07, 0x40, 0x7F};
+        for (int channel = 0; channel < 4; channel++) {
+            for (int v : values) {
+                HandheldPair x = halted(begin(new Rom(), channel, 0, v));
+                x.run(76);
+                Checks.due("channel " + channel + " by " + v, on(x), 0);
+            }
+            HandheldPair x = halted(begin(new Rom(), channel, 0, 0x80));
+            x.run(76);
+            Checks.due("channel " + channel + " by $80", on(x), 1 << channel);
+        }
+        // The envelope is changed behind the trigger: VOLUME stays until the next one.
+        HandheldPair x = halted(new Rom().ldh(0x22, 8).ldh(0x21, 0x50).ldh(0x23, 0x80).ldh(0x21, 0x90).ldh(0x23, 0x00));
+        x.run(200);
+        Checks.due("VOLUME", volume(x), 5);
+        HandheldPair y = halted(new Rom().ldh(0x22, 8).ldh(0x21, 0x50).ldh(0x23, 0x80).ldh(0x21, 0x90).ldh(0x23, 0x80));
+        y.run(200);
+        Checks.due("VOLUME", volume(y), 9);
     }
 
     /** Off: LENGTHS stay; the length's register is not written. */
@@ -132,14 +161,15 @@ public final class SoundEdgeTest {
         }
     }
 
-    /** What channel 4 tells while NOISE's bit 0 is 0: the greatest of its LEVELS within some DOTS. */
+    /** What channel 4 tells while NOISE's bit 0 is 0: the one LEVEL within some DOTS that is not 0. */
     private static int volume(HandheldPair x) {
-        int most = 0;
+        int volume = 0;
         for (int i = 0; i < 60; i++) {
-            most = Math.max(most, x.about(0, 19));
+            int level = x.about(0, 19);
+            volume = level != 0 ? level : volume;
             x.run(8);
         }
-        return most;
+        return volume;
     }
 
     /** Channel 4 with this envelope, behind so many STEPS 7. */
@@ -217,6 +247,10 @@ public final class SoundEdgeTest {
         dueSweep("900, 1350, then 2025, at the next one beyond", 0x11, 900, 7);
         dueSweep("a pace of 2: STEPS 2 and 6", 0x21, 1000, 7);
         dueSweep("a pace of 7", 0x71, 1000, 27);
+        dueSweep("a pace of 2, twice", 0x21, 900, 15);
+        dueSweep("1365 becomes 2047, which is not above; from there it goes beyond", 0x11, 1365, 3);
+        dueSweep("1638 + 409 is 2047, from there it goes beyond", 0x12, 1638, 3);
+        dueSweep("1639 + 409 is 2048", 0x12, 1639, -1);
     }
 
     /** The other way it comes to 0, and stays ON. */
@@ -232,6 +266,26 @@ public final class SoundEdgeTest {
         Checks.due("ON", on(x), 1);
         x.run(4);
         Checks.due("not ON", on(x), 0);
+        // Pace 1 at the trigger, 0 at the first sweep, which makes the count 8, and 1 from then on.
+        HandheldPair y = halted(new Rom().ldh(0x10, 0x11).ldh(0x12, 0xF0).ldh(0x13, 1000 & 255).ldh(0x14, 0x80 | 1000 >> 8).ldh(0x10, 0x01)
+            .spend(3 * STEP).ldh(0x10, 0x11));
+        Go.toTime(y, 35L * STEP - 4);
+        Checks.due("ON", on(y), 1);
+        y.run(4);
+        Checks.due("not ON", on(y), 0);
+    }
+
+    /** Frequency becomes it: 13, and bits 0 to 2 of 14 alone; bit 6 stays. */
+    private static void sweepLeavesBitSix() {
+        int[] lows = {0x00, 0x40, 0xFF};
+        for (int low : lows) {
+            for (int bit = 0; bit < 128; bit += 64) {
+                HandheldPair x = halted(new Rom().ldh(0x10, 0x17).ldh(0x11, 0).ldh(0x12, 0xF0).ldh(0x13, low).ldh(0x14, 0x84 | bit));
+                Go.toTime(x, 3 * STEP + 100);
+                Checks.due("ON", on(x), 1);
+                Checks.due("14", x.memory(0, 0xFF14), 0xBF | bit);
+            }
+        }
     }
 
     /** Sweep counts if bits 4 to 6 or bits 0 to 2 were not 0 at the trigger. */

@@ -23,6 +23,8 @@ public final class StateEdgeTest {
         statLine();
         shadesAndColours();
         stepsOfSound();
+        envelopeMidway();
+        sweepMidway();
         keysAndHalves();
         goalAndTimes();
         asideStays();
@@ -403,6 +405,57 @@ public final class StateEdgeTest {
             Go.toTime(x, 9 * 8192);
             Checks.due("not ON", x.memory(0, 0xFF26), 0xF0);
         }
+    }
+
+    /** Channel 4's LEVEL that is not 0, within some DOTS. */
+    private static int volume(HandheldPair x) {
+        int volume = 0;
+        for (int i = 0; i < 40; i++) {
+            int level = x.about(0, 19);
+            volume = level != 0 ? level : volume;
+            x.run(8);
+        }
+        return volume;
+    }
+
+    /** A pace of 3: kept behind the first of three, taken back behind the second and behind the third. */
+    private static void envelopeMidway() {
+        Rom rom = new Rom().ldh(0x22, 8).ldh(0x21, 0x73).ldh(0x23, 0x80).code(0x76);
+        for (int more = 1; more < 3; more++) {
+            HandheldPair x = takenBack(rom, 65536 + 1000, 65536 * (1 + more) + 1000);
+            Go.toTime(x, 2 * 65536 + 1000);
+            Checks.due("behind the second", volume(x), 7);
+            Go.toTime(x, 3 * 65536 + 1000);
+            Checks.due("behind the third", volume(x), 6);
+        }
+    }
+
+    private static void sweepMidway() {
+        // 900, 1350, then beyond at the second sweep: kept before the first, and behind it.
+        Rom rom = new Rom().ldh(0x10, 0x11).ldh(0x12, 0xF0).ldh(0x13, 900 & 255).ldh(0x14, 0x80 | 900 >> 8).code(0x76);
+        for (int steps = 1; steps < 7; steps += 4) {
+            HandheldPair x = takenBack(rom, steps * 8192, 6 * 8192 + steps * 4096);
+            Go.toTime(x, 7 * 8192 - 4);
+            Checks.due("ON", x.memory(0, 0xFF26), 0xF1);
+            x.run(4);
+            Checks.due("not ON", x.memory(0, 0xFF26), 0xF0);
+        }
+        // A pace of 3: kept behind the first of three, taken back behind the second.
+        Rom slow = new Rom().ldh(0x10, 0x31).ldh(0x12, 0xF0).ldh(0x13, 1000 & 255).ldh(0x14, 0x80 | 1000 >> 8).code(0x76);
+        HandheldPair y = takenBack(slow, 4 * 8192, 8 * 8192);
+        Go.toTime(y, 11 * 8192 - 4);
+        Checks.due("ON", y.memory(0, 0xFF26), 0xF1);
+        y.run(4);
+        Checks.due("not ON", y.memory(0, 0xFF26), 0xF0);
+        // Triggered anew without a sweep, behind the state: it counts again when that is taken back.
+        Rom anew = new Rom().ldh(0x10, 0x11).ldh(0x12, 0xF0).ldh(0x13, 1000 & 255).ldh(0x14, 0x80 | 1000 >> 8).spend(4 * 8192).ldh(0x10, 0).ldh(0x14, 0x83).code(0x76);
+        HandheldPair z = takenBack(anew, 8192, 5 * 8192);
+        Go.toTime(z, 3 * 8192);
+        Checks.due("not ON", z.memory(0, 0xFF26), 0xF0);
+        Rom other = new Rom().ldh(0x12, 0xF0).ldh(0x13, 1000 & 255).ldh(0x14, 0x83).ldh(0x10, 0x11).spend(5 * 8192).ldh(0x14, 0x83).code(0x76);
+        HandheldPair w = takenBack(other, 4000, 5 * 8192 + 4000);
+        Go.toTime(w, 4 * 8192);
+        Checks.due("it did not count then", w.memory(0, 0xFF26), 0xF1);
     }
 
     private static void keysAndHalves() {
