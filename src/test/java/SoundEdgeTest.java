@@ -521,14 +521,14 @@ public final class SoundEdgeTest {
 
     /** Duty 3 of channel 1, its position by a count of its own; the sweep changes it at just its STEP. */
     private static void sweepAtItsDot() {
-        int[] frequencies = {2000, 1990, 1985, 1972};
-        for (int frequency : frequencies) {
+        for (int frequency = 1970; frequency < 2002; frequency += 2) {
             HandheldPair x = halted(new Rom().ldh(0x26, 0).ldh(0x26, 0x80).ldh(0x10, 0x17).ldh(0x11, 0xC0).ldh(0x12, 0xF0)
                 .ldh(0x13, frequency).ldh(0x14, 0x80 | frequency >> 8));
             int begin = 16 + 7 * 20;
             int period = 4 * (2048 - frequency);
             int place = 0;
-            Go.toTime(x, 3 * STEP - 400);
+            // Nothing is told before that STEP, so that all that was counted until then must be right.
+            Go.toTime(x, 3 * STEP);
             for (int dot = begin + 1; dot <= 3 * STEP + 500; dot++) {
                 // The STEP comes with the CLOCKS, before the DOTS of its M-CYCLE.
                 int now = dot <= 3 * STEP - 4 ? frequency : frequency + (frequency >> 7);
@@ -537,7 +537,7 @@ public final class SoundEdgeTest {
                     period = 4 * (2048 - now);
                     place = (place + 1) % 8;
                 }
-                if (dot > 3 * STEP - 400 && dot % 4 == 0) {
+                if (dot > 3 * STEP && dot % 4 == 0) {
                     x.run(4);
                     Checks.due("LEVEL at " + dot + " of " + frequency, x.about(0, 16), place == 0 || place == 7 ? 0 : 15);
                 }

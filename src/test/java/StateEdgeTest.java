@@ -2,6 +2,7 @@
 public final class StateEdgeTest {
     public static void main(String[] args) {
         registersOfTheProcessor();
+        speedThatIsArmed();
         enableThatIsToCome();
         byteThatIsReadTwice();
         waiting();
@@ -55,6 +56,17 @@ public final class StateEdgeTest {
         Checks.due("HIGH memory", x.memory(0, 0xFF90), 0x42);
         x.run(300);
         Checks.due("it goes on", x.about(0, 8), 0xC800);
+    }
+
+    private static void speedThatIsArmed() {
+        Rom rom = new Rom().colour().ldh(0x4D, 1).nops(10).code(0x10, 0x00).stay();
+        HandheldPair x = takenBack(rom, 50, 200);
+        Checks.due("KEY1", x.memory(0, 0xFF4D), 0x7F);
+        Checks.due("not FAST", x.about(0, 13), 0);
+        x.run(100);
+        Checks.due("FAST", x.about(0, 13), 1);
+        HandheldPair y = takenBack(new Rom().colour().nops(10).ldh(0x4D, 1).nops(10).stay(), 30, 90);
+        Checks.due("KEY1", y.memory(0, 0xFF4D), 0x7E);
     }
 
     private static void enableThatIsToCome() {
@@ -328,6 +340,12 @@ public final class StateEdgeTest {
         HandheldPair x = takenBack(stage.rom.ldh(0x40, 0x93).code(0x76), on + 120, on + 456 * 3);
         x.run(200);
         Stage.due("drawn all the same", x, 155, 0, 3);
+        // Taken back from a line that has another one.
+        Stage two = new Stage(false).sprite(5, 9, 160, 1, 0).sprite(0, 30, 80, 1, 0);
+        int later = on + 4 * 24;
+        HandheldPair z = takenBack(two.rom.ldh(0x40, 0x93).code(0x76), later + 120, later + 16 * 456 + 120);
+        z.run(200);
+        Stage.due("the sprite of line 0", z, 155, 0, 3);
         // Taken back from a line that has one: then none is drawn in a line without.
         Stage other = new Stage(false).sprite(0, 17, 160, 1, 0);
         HandheldPair y = takenBack(other.rom.ldh(0x40, 0x93).code(0x76), on + 120, on + 456 + 120);
