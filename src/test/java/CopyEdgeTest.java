@@ -12,6 +12,8 @@ public final class CopyEdgeTest {
         begunAnewMidway();
         begunAnewAtOnce();
         copyWhileTheScreenBlocks();
+        copyBeforeTheDots();
+        copyOfAFastProcessor();
         Checks.end("CopyEdgeTest");
     }
 
@@ -205,6 +207,46 @@ public final class CopyEdgeTest {
         Checks.due("three of the new one", x.about(0, 23), 157);
         x.run(1000);
         Checks.due("byte 2", x.memory(0, 0xFE02), 3);
+    }
+
+    /** In an M-CYCLE the COPY's byte comes before the DOTS: Y that comes with dot 80 is chosen, one M-CYCLE later it is not. */
+    private static void copyBeforeTheDots() {
+        for (int late = 0; late < 2; late++) {
+            // Sprite 0 will be Y 20, X 20, tile 1: it holds line 4, of which tile 1 has its first line alone.
+            Rom rom = new Rom(0x1000).ldh(0x40, 0).ldh(0x48, 0xE4).poke(0x8010, 0xFF).poke(0xC000, 20).poke(0xC001, 20).poke(0xC002, 1);
+            int[] code = {0xE0, 0x46, 0x18, 0xFE};
+            for (int i = 0; i < code.length; i++) {
+                rom.ldh(0x80 + i, code[i]);
+            }
+            // The screen is on from some TIME; the write ends 76 DOTS into line 4, its first byte comes with dots 80 to 83.
+            rom.ldh(0x40, 0x93).spend(4 * 456 + 76 + 4 * late - 8 - 16 - 12).code(0x3E, 0xC0, 0xC3, 0x80, 0xFF);
+            int on = 16 + 40 + 4 * 24 + 4 * 20 + 20;
+            HandheldPair x = rom.start();
+            Go.toTime(x, on + 4 * 456 + 76 + 4 * late);
+            Checks.due("TIME of the write", x.time(0), on + 4 * 456 + 76 + 4 * late);
+            Checks.due("dot", x.about(0, 14), 76 + 4 * late);
+            x.run(1000);
+            Checks.due("the sprite's first line", x.pixel(0, 12, 4), late == 0 ? 1 : 0);
+        }
+    }
+
+    /** FAST: one byte in each M-CYCLE of two DOTS. */
+    private static void copyOfAFastProcessor() {
+        Rom rom = new Rom(0x1000).colour().ldh(0x40, 0).poke(0xC000, 0x31).poke(0xC09F, 0x32).ldh(0x80, 0xE0).ldh(0x81, 0x46).ldh(0x82, 0x18).ldh(0x83, 0xFE)
+            .ldh(0x4D, 1).code(0x10, 0).code(0x3E, 0xC0, 0xC3, 0x80, 0xFF);
+        HandheldPair x = rom.start();
+        int begin = 16 + 20 + 48 + 80 + 20 + 4 + 12 + 6;
+        x.run(begin);
+        Checks.due("TIME", x.time(0), begin);
+        Checks.due("all are to come", x.about(0, 23), 160);
+        x.run(6);
+        Checks.due("two came in three M-CYCLES", x.about(0, 23), 158);
+        x.run(6 * 52);
+        Checks.due("two are left", x.about(0, 23), 2);
+        x.run(6);
+        Checks.due("none is left", x.about(0, 23), 0);
+        Checks.due("the first", x.memory(0, 0xFE00), 0x31);
+        Checks.due("the last", x.memory(0, 0xFE9F), 0x32);
     }
 
     /** Whatever the screen blocks: VIDEO as source and the sprites' memory, in modes 2 and 3. */

@@ -318,6 +318,12 @@ public final class InsertEdgeTest {
         Checks.dueThrow("refused", UnsupportedOperationException.class, () -> x.insert(1));
         x.run(10);
         Checks.due("OFF: it stays", x.time(1), 80001);
+        Checks.dueThrow("refused once more", UnsupportedOperationException.class, () -> x.insert(1));
+        Checks.due("a refusal leaves TIME below GOAL", x.time(1), 80001);
+        HandheldPair y = new HandheldPair();
+        y.run(500);
+        Checks.dueThrow("refused", UnsupportedOperationException.class, () -> y.insert(0));
+        Checks.due("a refusal leaves TIME 0", y.time(0), 0);
     }
 
     /** RAM of the cartridge and its clock all 0, LATCHED and not. */

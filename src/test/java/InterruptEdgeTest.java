@@ -6,12 +6,14 @@ public final class InterruptEdgeTest {
         notWithoutIme();
         enableBehindTheNext();
         enableTwice();
+        enableWhileItIs();
         enableThenDisable();
         disableThenEnable();
         powerForgetsWhatIsToCome();
         enableThenReturn();
         returnWithIme();
         stackRunsOver();
+        pushesIntoIf();
         haltLooksBeforeEach();
         haltAtOnceByEnable();
         haltReadsTwice();
@@ -82,6 +84,19 @@ public final class InterruptEdgeTest {
         Checks.due("IME", y.about(0, 10), 0);
     }
 
+    /** EI with IME 1 lets nothing come: the interrupt right behind it leaves IME 0. */
+    private static void enableWhileItIs() {
+        HandheldPair x = new Rom().ldh(0x0F, 0).ldh(0xFF, 0x10).code(0xFB, 0x00, 0xFB, 0x00).start();
+        Go.step(x, 8);
+        Checks.due("IME", x.about(0, 10), 1);
+        x.keys(0, 1);
+        Go.step(x, 1);
+        Checks.due("the interrupt", x.about(0, 9), 0x60);
+        Checks.due("IME", x.about(0, 10), 0);
+        Go.step(x, 2);
+        Checks.due("IME", x.about(0, 10), 0);
+    }
+
     /** IME 0 (at once; one that is to come does not). */
     private static void enableThenDisable() {
         HandheldPair x = new Rom().ldh(0xFF, 1).code(0xFB, 0xF3, 0x00, 0x00, 0x00).start();
@@ -149,6 +164,11 @@ public final class InterruptEdgeTest {
         Checks.due("SP", x.about(0, 8), 0xFFFF);
         Checks.due("PC low is written to IE behind the choice", x.memory(0, 0xFFFF), 0x59);
         Checks.due("PC", x.about(0, 9), 0x40);
+        HandheldPair even = new Rom().ldh(0xFF, 1).nops(1).code(0x31, 0x01, 0x00, 0xFB, 0x00, 0x00).start();
+        Go.step(even, 8);
+        Checks.due("IE has no bit of it then", even.memory(0, 0xFFFF), 0x5A);
+        Checks.due("PC", even.about(0, 9), 0x40);
+        Checks.due("it goes from IF", even.memory(0, 0xFF0F), 0xE0);
         HandheldPair y = new Rom().ldh(0xFF, 2).ldh(0x0F, 2).code(0x31, 0x00, 0x00, 0xFB, 0x00, 0x00).start();
         Go.step(y, 9);
         Checks.due("SP", y.about(0, 8), 0xFFFE);
@@ -156,6 +176,20 @@ public final class InterruptEdgeTest {
         Checks.due("IF stays", y.memory(0, 0xFF0F), 0xE2);
         Checks.due("IME", y.about(0, 10), 0);
         Checks.due("PC low", y.memory(0, 0xFFFE), 0x5D);
+    }
+
+    /** PC's bytes may be written to IF: the high one before the choice, the low one before k goes from it. */
+    private static void pushesIntoIf() {
+        HandheldPair x = new Rom().ldh(0xFF, 1).nops(2).code(0x31, 0x11, 0xFF, 0xFB, 0x00, 0x00).start();
+        Go.step(x, 9);
+        Checks.due("SP", x.about(0, 8), 0xFF0F);
+        Checks.due("PC", x.about(0, 9), 0x40);
+        Checks.due("$5B, less bit 0", x.memory(0, 0xFF0F), 0xFA);
+        HandheldPair y = new Rom(0x800).put(0x150, 0xC3, 0x00, 0x06).put(0x600, 0x3E, 0x05, 0xE0, 0xFF, 0x31, 0x10, 0xFF, 0xFB, 0x00, 0x00).start();
+        Go.step(y, 8);
+        Checks.due("PC's high byte, 6, is IF: interrupt 2", y.about(0, 9), 0x50);
+        Checks.due("it goes from IF", y.memory(0, 0xFF0F), 0xE2);
+        Checks.due("IE", y.memory(0, 0xFFFF), 5);
     }
 
     /** Idle M-CYCLES until IE & IF & 31 is not 0 (looked at before each). */

@@ -31,6 +31,8 @@ public final class SoundEdgeTest {
         heardOfAllChannels();
         envelopesOfThree();
         heardOfEach();
+        heardAtTheStep();
+        heardWhileOff();
         sweepAtItsDot();
         powerBeginsAnew();
         Checks.end("SoundEdgeTest");
@@ -521,7 +523,9 @@ public final class SoundEdgeTest {
 
     /** Duty 3 of channel 1, its position by a count of its own; the sweep changes it at just its STEP. */
     private static void sweepAtItsDot() {
-        for (int frequency = 1970; frequency < 2002; frequency += 2) {
+        // With 1937, 1993 and 2011 a PERIOD ends at the very DOT of the STEP.
+        int[] frequencies = {1937, 1993, 2011, 1970, 1972, 1974, 1976, 1978, 1980, 1982, 1984, 1986, 1988, 1990, 1992, 1994, 1996, 1998, 2000};
+        for (int frequency : frequencies) {
             HandheldPair x = halted(new Rom().ldh(0x26, 0).ldh(0x26, 0x80).ldh(0x10, 0x17).ldh(0x11, 0xC0).ldh(0x12, 0xF0)
                 .ldh(0x13, frequency).ldh(0x14, 0x80 | frequency >> 8));
             int begin = 16 + 7 * 20;
@@ -585,6 +589,42 @@ public final class SoundEdgeTest {
             int sum = channel == 4 ? levels[0] + levels[1] + levels[2] + levels[3] : levels[channel];
             Checks.due("LEVELS", levels[0] * 256 + levels[1] * 16 + levels[2], 0x35F);
             Checks.due("HEARD of " + channel, x.about(0, 20), before * 31 + 2 * sum * 512 + sum);
+        }
+    }
+
+    /** Channel 3 with WAVE all $FF, heard at the left with 15 times 512, at the right with 15. */
+    private static Rom steady(int length, int trigger) {
+        Rom rom = new Rom();
+        for (int i = 0; i < 16; i++) {
+            rom.ldh(0x30 + i, 0xFF);
+        }
+        return rom.ldh(0x1A, 0x80).ldh(0x1B, length).ldh(0x1C, 0x20).ldh(0x25, 0x44).ldh(0x1E, trigger);
+    }
+
+    /** CLOCKS come before DOTS: LENGTH ends with the STEP, and the 64th DOT of that M-CYCLE hears it no more. */
+    private static void heardAtTheStep() {
+        HandheldPair x = halted(steady(0xFF, 0xC0));
+        x.run(STEP - 4);
+        int before = x.about(0, 20);
+        Checks.due("ON", on(x), 4);
+        x.run(4);
+        Checks.due("HEARD", x.about(0, 20), before * 31);
+        HandheldPair y = halted(steady(0xFF, 0x80));
+        y.run(STEP);
+        Checks.due("HEARD without an end", y.about(0, 20), before * 31 + 15 * 513);
+    }
+
+    /** Every 64th DOT since POWER ON, sound on or off. */
+    private static void heardWhileOff() {
+        HandheldPair x = halted(steady(0, 0x80).ldh(0x26, 0));
+        x.run(512);
+        Checks.due("off", x.memory(0, 0xFF26), 0x70);
+        int heard = x.about(0, 20);
+        Checks.due("HEARD before", heard != 0 ? 1 : 0, 1);
+        for (int i = 0; i < 5; i++) {
+            x.run(64);
+            heard *= 31;
+            Checks.due("HEARD", x.about(0, 20), heard);
         }
     }
 
