@@ -105,6 +105,14 @@ public final class CallEdgeTest {
         Checks.due("GOAL", x.count(1), 80001);
         Checks.due("TIME", x.time(0), 80004);
         Checks.due("in all", x.count(2), 20001);
+        // The most that one run can do: two that are FAST, each with 40,000 idle M-CYCLES.
+        Rom fast = new Rom().colour().ldh(0x4D, 1).code(0x10, 0x00, 0x76);
+        HandheldPair y = fast.start();
+        fast.insertInto(y, 1);
+        y.run(100);
+        Checks.due("two that are FAST", y.run(80000), 80000);
+        Checks.due("TIME 0", y.time(0), 80100);
+        Checks.due("TIME 1", y.time(1), 80100);
     }
 
     /** IllegalArgumentException: another n than 1 .. 80,000. */

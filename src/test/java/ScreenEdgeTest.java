@@ -21,6 +21,7 @@ public final class ScreenEdgeTest {
         turnedOffByItsBitAlone();
         turnedOffInEachMode();
         offTwiceAndOnTwice();
+        pixelsAsDrawnLast();
         pictureStays();
         offHasNoStat();
         onBeginsAtTheTop();
@@ -300,6 +301,21 @@ public final class ScreenEdgeTest {
         Checks.due("dot", y.about(0, 14), 0);
         y.run(8);
         Checks.due("dot", y.about(0, 14), 8);
+    }
+
+    /** The pixel as it was drawn last: those above the line are of this frame, those below of the one before. */
+    private static void pixelsAsDrawnLast() {
+        HandheldPair x = new Rom().ldh(0x47, 3).spend(FRAME + 50 * LINE - 36).ldh(0x47, 1).code(0x76).start();
+        Go.toTime(x, FRAME + 60 * LINE);
+        int[][] want = {{0, 3}, {49, 3}, {50, 1}, {59, 1}, {60, 3}, {143, 3}};
+        for (int[] w : want) {
+            Stage.due("in the second frame", x, 159, w[0], w[1]);
+        }
+        Go.toTime(x, 2 * FRAME + 30 * LINE);
+        int[][] later = {{0, 1}, {29, 1}, {30, 3}, {49, 3}, {50, 1}, {143, 1}};
+        for (int[] w : later) {
+            Stage.due("in the third frame", x, 0, w[0], w[1]);
+        }
     }
 
     private static void pictureStays() {
