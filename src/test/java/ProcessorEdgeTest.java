@@ -16,6 +16,7 @@ public final class ProcessorEdgeTest {
         bytesRunOver();
         hlSumsRunOver();
         flagsHaveFourBits();
+        idleHasNoAccess();
         Checks.end("ProcessorEdgeTest");
     }
 
@@ -262,6 +263,21 @@ public final class ProcessorEdgeTest {
             Go.step(x, 3);
             Checks.due("HL", pair(x, 2), c[2]);
             Checks.due("F, Z as it was", x.about(0, 1), c[3]);
+        }
+    }
+
+    /** An idle M-CYCLE has none: d is read from VIDEO in the last M-CYCLE of mode 2, the idle ones fall into mode 3. */
+    private static void idleHasNoAccess() {
+        int[][] cases = {{0x18, 9, 0x8007}, {0x28, 9, 0x8007}, {0xE8, 8, 0x0003}, {0xF8, 6, 0x00}};
+        for (int[] c : cases) {
+            Rom rom = new Rom().ldh(0x40, 0).poke(0x8000, c[0]).poke(0x8001, 5).ldh(0x40, 0x91).spend(56).code(0xC3, 0x00, 0x80);
+            HandheldPair x = rom.start();
+            int on = 16 + 20 + 48 + 20;
+            x.run(on + 72);
+            Checks.due("PC", x.about(0, 9), 0x8000);
+            Go.step(x, 1);
+            Checks.due("mode 3", x.memory(0, 0xFF41) & 3, 3);
+            Checks.due("by " + Integer.toHexString(c[0]), x.about(0, c[1]), c[2]);
         }
     }
 

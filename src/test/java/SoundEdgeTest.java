@@ -33,6 +33,7 @@ public final class SoundEdgeTest {
         heardOfEach();
         heardAtTheStep();
         heardWhileOff();
+        heardWithinAnMCycle();
         sweepAtItsDot();
         powerBeginsAnew();
         Checks.end("SoundEdgeTest");
@@ -612,6 +613,35 @@ public final class SoundEdgeTest {
         HandheldPair y = halted(steady(0xFF, 0x80));
         y.run(STEP);
         Checks.due("HEARD without an end", y.about(0, 20), before * 31 + 15 * 513);
+    }
+
+    /**
+     * FAST for seven M-CYCLES: from then on each M-CYCLE begins behind an odd pair of DOTS, and the
+     * 64th DOT lies in the middle of one. What is heard is the LEVEL of that DOT.
+     */
+    private static void heardWithinAnMCycle() {
+        int[] frequencies = {2047, 2046, 2043, 2030};
+        for (int frequency : frequencies) {
+            Rom rom = new Rom().colour().ldh(0x4D, 1).code(0x10, 0).nops(1).ldh(0x4D, 1).code(0x10, 0);
+            for (int i = 0; i < 16; i++) {
+                rom.ldh(0x30 + i, i * 0x35 + 0x1C & 255);
+            }
+            HandheldPair x = halted(rom.ldh(0x1A, 0x80).ldh(0x1C, 0x20).ldh(0x25, 0x40).ldh(0x1D, frequency).ldh(0x1E, 0x87));
+            int begin = 40 + 14 + 21 * 20;
+            x.run(begin);
+            Checks.due("TIME", x.time(0), begin);
+            int want = x.about(0, 20);
+            Checks.due("nothing heard", want, 0);
+            for (int dot = 512; dot < 512 + 64 * 20; dot += 64) {
+                Go.toTime(x, dot - 2);
+                Checks.due("HEARD before " + dot, x.about(0, 20), want);
+                int position = (dot - begin) / (2 * (2048 - frequency)) % 32;
+                int both = position / 2 * 0x35 + 0x1C & 255;
+                want = want * 31 + (position % 2 == 0 ? both / 16 : both % 16) * 512;
+                Go.toTime(x, dot + 2);
+                Checks.due("HEARD behind " + dot, x.about(0, 20), want);
+            }
+        }
     }
 
     /** Every 64th DOT since POWER ON, sound on or off. */
