@@ -20,6 +20,10 @@ public final class BlockEdgeTest {
         slowNotInTheLastLines();
         blockIgnoresWhatBlocks();
         bankOfThatTime();
+        idleCyclesHaveClocks();
+        slowWhileTheScreenIsOff();
+        slowTurnedOffInModeThree();
+        slowWithOneMoreWrite();
         Checks.end("BlockEdgeTest");
     }
 
@@ -316,5 +320,66 @@ public final class BlockEdgeTest {
         Checks.due("bank 0", y.memory(0, 0x8000), pattern(0x400));
         y.run(40);
         Checks.due("not bank 1", y.memory(0, 0x8000), 0);
+    }
+
+    /** The idle M-CYCLES are M-CYCLES: DIVIDER, TIMA and dot go on in them. */
+    private static void idleCyclesHaveClocks() {
+        HandheldPair x = atOnce(data(0x1000), 0x400, 0x8000, 0x03);
+        Checks.due("DIVIDER", x.about(0, 12), 136 + 4 * 32);
+        HandheldPair y = block(data(0x1000).ldh(7, 5), 0x400, 0x8000, 0x01).stay().start();
+        y.run(136);
+        Checks.due("TIME", y.time(0), 136 + 2 * 32);
+        Checks.due("TIMA", y.memory(0, 0xFF05), 200 / 16 - 36 / 16);
+        Checks.due("dot", y.about(0, 14), 200);
+        HandheldPair z = slow(0x80);
+        z.run(292);
+        Checks.due("TIME", z.time(0), 292);
+        Checks.due("DIVIDER", z.about(0, 12), 292);
+        Checks.due("dot", z.about(0, 14), 292);
+    }
+
+    /** With LCDC bit 7 clear no mode 0 begins: it waits until a line is drawn again. */
+    private static void slowWhileTheScreenIsOff() {
+        HandheldPair x = block(data(0x1000).ldh(0x40, 0), 0x400, 0x8000, 0x81).spend(2000).ldh(0x40, 0x91).code(0x76).start();
+        x.run(136 + 2000);
+        Checks.due("none went", x.about(0, 24), 2);
+        Checks.due("no idle M-CYCLE", x.time(0), 136 + 2000);
+        Checks.due("nothing was copied", x.memory(0, 0x8000), 0);
+        Checks.due("55", x.memory(0, 0xFF55), 1);
+        x.run(20 + 252);
+        Checks.due("not yet", x.about(0, 24), 2);
+        x.run(4);
+        Checks.due("one went", x.about(0, 24), 1);
+        Checks.due("copied", x.memory(0, 0x8000), pattern(0x400));
+    }
+
+    /** A slow one goes on at dot 252 + F, not where mode 3 ends by LCDC's bit 7. */
+    private static void slowTurnedOffInModeThree() {
+        HandheldPair x = block(data(0x1000), 0x400, 0x8000, 0x81).ldh(0x40, 0x11).ldh(0x40, 0x91).code(0x76).start();
+        x.run(116);
+        Checks.due("mode 3", x.memory(0, 0xFF41) & 3, 3);
+        x.run(20);
+        Checks.due("mode 0", x.memory(0, 0xFF41) & 3, 0);
+        Checks.due("none went", x.about(0, 24), 2);
+        Checks.due("nothing was copied", x.memory(0, 0x8000), 0);
+        x.run(20);
+        Checks.due("no idle M-CYCLE", x.time(0), 156);
+        x.run(252);
+        Checks.due("none went", x.about(0, 24), 2);
+        x.run(4);
+        Checks.due("one went", x.about(0, 24), 1);
+    }
+
+    /** The write that ends a slow one comes in the M-CYCLE in which mode 0 begins: that block went, its idle M-CYCLES come. */
+    private static void slowWithOneMoreWrite() {
+        HandheldPair x = block(data(0x1000), 0x400, 0x8000, 0x82).spend(120).ldh(0x55, 0x05).code(0x76).start();
+        x.run(256);
+        Checks.due("TIME", x.time(0), 256);
+        Checks.due("it ended", x.about(0, 24), 0);
+        Checks.due("55", x.memory(0, 0xFF55), 0x85);
+        Checks.due("one block went", x.memory(0, 0x800F), pattern(0x40F));
+        Checks.due("no more", x.memory(0, 0x8010), 0);
+        x.run(1);
+        Checks.due("8 idle M-CYCLES, and HALT", x.time(0), 256 + 36);
     }
 }

@@ -11,6 +11,8 @@ public final class CableEdgeTest {
         otherCountsFromItsWrite();
         writeWithoutBitSevenStops();
         writeOfSbMidway();
+        dividerLeavesRate();
+        speedLeavesRate();
         bitsAtPowerOn();
         asksForNothingElse();
         Checks.end("CableEdgeTest");
@@ -180,5 +182,29 @@ public final class CableEdgeTest {
         dueState("power on", x, 0, 0, 0x7E, 0);
         x.run(10000);
         dueState("nothing goes", x, 0, 0, 0x7E, 0);
+    }
+
+    /** A write to 04 makes DIVIDER 0, and leaves RATE. */
+    private static void dividerLeavesRate() {
+        HandheldPair x = new Rom(0x1000).ldh(1, 0).ldh(2, 0x81).spend(300).ldh(4, 0).code(0x76).start();
+        x.run(56 + 508);
+        dueState("508 CLOCKS", x, 0, 0x00, 0xFF, 8);
+        x.run(4);
+        dueState("512 CLOCKS", x, 0, 0x01, 0xFF, 7);
+    }
+
+    /** So does STOP; FAST then has 4 CLOCKS for 2 DOTS. STOP ends at 180: 104 CLOCKS went, 408 are left. */
+    private static void speedLeavesRate() {
+        HandheldPair x = new Rom().colour().ldh(0x4D, 1).ldh(1, 0).ldh(2, 0x81).spend(100).code(0x10, 0, 0x76).start();
+        x.run(180);
+        Checks.due("FAST", x.about(0, 13), 1);
+        x.run(202);
+        dueState("508 CLOCKS", x, 0, 0x00, 0xFD, 8);
+        x.run(2);
+        dueState("512 CLOCKS", x, 0, 0x01, 0xFD, 7);
+        x.run(254);
+        dueState("1,020 CLOCKS", x, 0, 0x01, 0xFD, 7);
+        x.run(2);
+        dueState("1,024 CLOCKS", x, 0, 0x03, 0xFD, 6);
     }
 }

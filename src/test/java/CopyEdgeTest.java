@@ -7,6 +7,8 @@ public final class CopyEdgeTest {
         bytesThatAreToCome();
         whatIsBlocked();
         highMemoryIsNot();
+        stackIsBlocked();
+        interruptIsBlocked();
         sourcePages();
         justAsManyBytes();
         begunAnewMidway();
@@ -267,5 +269,43 @@ public final class CopyEdgeTest {
         for (int i = 0; i < 8; i++) {
             Checks.due("byte " + 20 * i, x.memory(0, 0xFE00 + 20 * i), 0x40 + i);
         }
+    }
+
+    /** What is pushed to WORK is not written, what is popped from it is $FF; SP goes on. */
+    private static void stackIsBlocked() {
+        HandheldPair push = inHigh(0xC0, 0xE0, 0x46, 0x31, 0x10, 0xC1, 0xE5, 0x18, 0xFE);
+        push.run(1000);
+        Checks.due("SP", push.about(0, 8), 0xC10E);
+        Checks.due("not written", push.memory(0, 0xC10F) << 8 | push.memory(0, 0xC10E), 0);
+        HandheldPair pop = inHigh(0xC0, 0xE0, 0x46, 0x31, 0x00, 0xC0, 0xD1, 0x18, 0xFE);
+        pop.run(1000);
+        Checks.due("DE", pop.about(0, 4) << 8 | pop.about(0, 5), 0xFFFF);
+        Checks.due("SP", pop.about(0, 8), 0xC002);
+        HandheldPair call = inHigh(0xC0, 0xE0, 0x46, 0x31, 0x10, 0xC1, 0xCD, 0x90, 0xFF, 0, 0, 0, 0, 0, 0, 0, 0, 0x18, 0xFE);
+        call.run(1000);
+        Checks.due("PC", call.about(0, 9), 0xFF90);
+        Checks.due("not written", call.memory(0, 0xC10F) << 8 | call.memory(0, 0xC10E), 0);
+        HandheldPair store = inHigh(0xC0, 0xE0, 0x46, 0x08, 0x20, 0xC1, 0x18, 0xFE);
+        store.run(1000);
+        Checks.due("SP is not written", store.memory(0, 0xC121) << 8 | store.memory(0, 0xC120), 0);
+        HandheldPair high = inHigh(0xC0, 0xE0, 0x46, 0xE5, 0x18, 0xFE);
+        high.run(1000);
+        Checks.due("HIGH memory is", high.memory(0, 0xFFFD) << 8 | high.memory(0, 0xFFFC), 0xC000);
+    }
+
+    /** An interrupt's bytes are not written, either; its place's byte is read as $FF. */
+    private static void interruptIsBlocked() {
+        HandheldPair x = inHigh(0xC0, 0xE0, 0x46, 0x31, 0x10, 0xC1, 0x3E, 0x01, 0xE0, 0xFF, 0xE0, 0x0F, 0xFB, 0x00, 0x00, 0x18, 0xFE);
+        Go.step(x, 7);
+        Checks.due("IME", x.about(0, 10), 1);
+        Go.step(x, 1);
+        Checks.due("the interrupt", x.about(0, 9), 0x40);
+        Checks.due("it goes from IF", x.memory(0, 0xFF0F), 0xE0);
+        Go.step(x, 1);
+        Checks.due("$FF is a call of $38", x.about(0, 9), 0x38);
+        Checks.due("SP", x.about(0, 8), 0xC10C);
+        x.run(640);
+        Checks.due("none is to come", x.about(0, 23), 0);
+        Checks.due("nothing was written", x.memory(0, 0xC10F) + x.memory(0, 0xC10E) + x.memory(0, 0xC10D) + x.memory(0, 0xC10C), 0);
     }
 }

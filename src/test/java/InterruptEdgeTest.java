@@ -17,6 +17,8 @@ public final class InterruptEdgeTest {
         haltLooksBeforeEach();
         haltAtOnceByEnable();
         haltReadsTwice();
+        haltReadsTwiceByEnable();
+        haltAskedForInItsOwnCycle();
         stuckForEver();
         stopNeedsAKey();
         stopWithAKeyDown();
@@ -338,5 +340,49 @@ public final class InterruptEdgeTest {
         Checks.due("one bit rises, another falls", x.memory(0, 0xFF0F), 0xF0);
         x.run(200);
         Checks.due("bits that rise by a write", x.memory(0, 0xFF0F), 0xE0);
+    }
+
+    /** EI, HALT, and one waits: IME is 0 at HALT, so no halt; the next instruction is the interrupt's first. */
+    private static void haltReadsTwiceByEnable() {
+        HandheldPair x = new Rom().put(0x40, 0x3C, 0x3C, 0x3C).ldh(0xFF, 1).code(0xFB, 0x76, 0x04, 0x04).start();
+        Go.step(x, 5);
+        Checks.due("no halt", x.about(0, 11), 0);
+        Checks.due("IME", x.about(0, 10), 1);
+        Checks.due("PC", x.about(0, 9), 0x156);
+        Go.step(x, 1);
+        Checks.due("the interrupt", x.about(0, 9), 0x40);
+        Checks.due("pushed: behind HALT", x.memory(0, 0xFFFC) | x.memory(0, 0xFFFD) << 8, 0x156);
+        Go.step(x, 1);
+        Checks.due("its first byte is read without PC going on", x.about(0, 9), 0x40);
+        Checks.due("and done", x.about(0, 0), 2);
+        Go.step(x, 1);
+        Checks.due("then PC goes on", x.about(0, 9), 0x41);
+        Checks.due("A", x.about(0, 0), 3);
+        Checks.due("B", x.about(0, 2), 0);
+    }
+
+    /** Interrupt 2 is asked for at 116, in the very M-CYCLE that reads HALT. */
+    private static void haltAskedForInItsOwnCycle() {
+        for (int ime = 0; ime < 2; ime++) {
+            HandheldPair x = new Rom().ldh(0x0F, 0).ldh(0xFF, 4).ldh(0x07, 5).ldh(0x05, 0xFF).code(ime == 1 ? 0xFB : 0x00, 0, 0, 0, 0x76, 0x3C, 0x3C).start();
+            x.run(112);
+            Checks.due("not yet", x.memory(0, 0xFF0F), 0xE0);
+            x.run(4);
+            Checks.due("asked for", x.memory(0, 0xFF0F), 0xE4);
+            Checks.due("IME", x.about(0, 10), ime);
+            Checks.due("HALT, or none without IME", x.about(0, 11), ime);
+            x.run(4);
+            if (ime == 1) {
+                Checks.due("the interrupt, without an idle M-CYCLE", x.about(0, 9), 0x50);
+                Checks.due("five M-CYCLES", x.time(0), 136);
+                Checks.due("pushed: behind HALT", x.memory(0, 0xFFFC), 0x65);
+                Checks.due("it runs", x.about(0, 11), 0);
+            } else {
+                Checks.due("the next one's byte is read without PC going on", x.about(0, 9), 0x165);
+                x.run(4);
+                Checks.due("and once more", x.about(0, 9), 0x166);
+                Checks.due("A", x.about(0, 0), 1);
+            }
+        }
     }
 }

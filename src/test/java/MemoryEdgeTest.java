@@ -12,6 +12,8 @@ public final class MemoryEdgeTest {
         videoIsBlockedInMode3();
         spritesAreBlockedInModes2And3();
         writesAreBlockedToo();
+        programInVideo();
+        stackInVideoAndSprites();
         coloursAreBlockedInMode3();
         coloursReadInEachMode();
         indexesRunOver();
@@ -282,6 +284,39 @@ public final class MemoryEdgeTest {
             Checks.due("STAT of " + v + " in mode 2", x.memory(0, 0xFF41), 0x82 | v & 0x78);
             x.run(400);
             Checks.due("STAT of " + v + ", LY is LYC", x.memory(0, 0xFF41), 0x84 | v & 0x78);
+        }
+    }
+
+    /** A program in VIDEO: its bytes are read as $FF in mode 3, too, which is a call of $38. */
+    private static void programInVideo() {
+        Rom rom = new Rom().put(0x38, 0x18, 0xFE).ldh(0x40, 0).poke(0x8000, 0x3C).poke(0x8001, 0x18).poke(0x8002, 0xFD);
+        HandheldPair x = rom.ldh(0x40, 0x91).code(0x3E, 0x00, 0xC3, 0x00, 0x80).start();
+        int on = 16 + 20 + 72 + 20;
+        x.run(on + 24);
+        Checks.due("PC", x.about(0, 9), 0x8000);
+        x.run(16);
+        Checks.due("a round", x.about(0, 0), 1);
+        Checks.due("PC", x.about(0, 9), 0x8000);
+        Go.toTime(x, on + 76);
+        Checks.due("until mode 3 it goes on", x.about(0, 0), 4);
+        Go.toTime(x, on + 100);
+        Checks.due("in mode 3", x.memory(0, 0xFF41) & 3, 3);
+        Checks.due("SP", x.about(0, 8), 0xFFFC);
+        Checks.due("at $38", x.about(0, 9) & 0xFFF8, 0x38);
+    }
+
+    /** What is pushed to VIDEO in mode 3 is not written, what is popped is $FF; so with the sprites in modes 2 and 3. */
+    private static void stackInVideoAndSprites() {
+        int[][] cases = {{0x9000, 100, 0}, {0x9000, 40, 1}, {0x9000, 300, 1}, {0xFE50, 40, 0}, {0xFE50, 100, 0}, {0xFE50, 300, 1}};
+        for (int[] c : cases) {
+            Rom rom = new Rom().ldh(0x40, 0).code(0x31, c[0], c[0] >> 8, 0x01, 0x56, 0x34).ldh(0x40, 0x91).spend(c[1] - 16).code(0x01, 0x56, 0x34, 0xC5);
+            HandheldPair x = rom.code(0xD1).ldh(0x40, 0).code(0x76).start();
+            x.run(2000);
+            String what = "stack at " + Integer.toHexString(c[0]) + " behind " + c[1] + " DOTS";
+            int there = x.memory(0, c[0] - 2) | x.memory(0, c[0] - 1) << 8;
+            Checks.due(what, there, c[2] == 1 ? 0x3456 : 0);
+            Checks.due(what + ": popped", x.about(0, 4) << 8 | x.about(0, 5), c[2] == 1 ? 0x3456 : 0xFFFF);
+            Checks.due("SP", x.about(0, 8), c[0]);
         }
     }
 }

@@ -26,6 +26,10 @@ public final class ScreenEdgeTest {
         offHasNoStat();
         onBeginsAtTheTop();
         fastHasTwoDots();
+        modeThreeIsAlwaysAsLong();
+        lineOneHundredFortyFourByAnyLcdc();
+        noModeTwoInLineOneHundredFortyFour();
+        blankComesWithoutItsStatBit();
         Checks.end("ScreenEdgeTest");
     }
 
@@ -366,5 +370,69 @@ public final class ScreenEdgeTest {
         x.run(LINE - 254);
         Checks.due("LY", x.memory(0, 0xFF44), 1);
         Checks.due("dot", x.about(0, 14), 0);
+    }
+
+    private static void toTheTop(HandheldPair x) {
+        x.run((154 - x.memory(0, 0xFF44)) * LINE - x.about(0, 14));
+        Checks.due("LY and dot", x.memory(0, 0xFF44) + x.about(0, 14), 0);
+    }
+
+    /** 252 + F: mode 0, whatever window and sprites the line has. */
+    private static void modeThreeIsAlwaysAsLong() {
+        Stage stage = new Stage(false).fill(0x9C00, 1, 32).register(0x4B, 20);
+        for (int k = 0; k < 10; k++) {
+            stage.sprite(k, 16, 8 + 13 * k, 1, 0);
+        }
+        HandheldPair x = stage.rom.ldh(0x40, 0xF3).code(0x76).start();
+        x.run(40000);
+        toTheTop(x);
+        for (int line = 0; line < 8; line++) {
+            x.run(84);
+            Checks.due("mode", mode(x), 3);
+            x.run(168);
+            Checks.due("mode behind 252", mode(x), 3);
+            x.run(4);
+            Checks.due("mode behind 256", mode(x), 0);
+            x.run(200);
+        }
+        Stage.due("the window was drawn", x, 159, 0, 3);
+        Stage.due("sprites were drawn", x, 0, 0, 3);
+    }
+
+    /** Interrupt 0, whatever LCDC's other bits are. */
+    private static void lineOneHundredFortyFourByAnyLcdc() {
+        int[] values = {0x80, 0x81, 0x82, 0x84, 0x88, 0x90, 0xA0, 0xC0, 0xFF};
+        for (int lcdc : values) {
+            HandheldPair x = new Rom().ldh(0x40, lcdc).ldh(0x0F, 0).code(0x76).start();
+            x.run(144 * LINE);
+            Checks.due("not yet", x.memory(0, 0xFF0F), 0xE0);
+            x.run(4);
+            Checks.due("asked for", x.memory(0, 0xFF0F), 0xE1);
+        }
+    }
+
+    /** Bit 5 and mode 2: line 144 has none. IF is cleared in mode 0 of line 143. */
+    private static void noModeTwoInLineOneHundredFortyFour() {
+        HandheldPair x = new Rom().ldh(0x45, 200).ldh(0x41, 0x20).spend(143 * LINE + 300 - 56 - 20).ldh(0x0F, 0).code(0x76).start();
+        Go.toTime(x, 144 * LINE);
+        Checks.due("IF", x.memory(0, 0xFF0F), 0xE0);
+        x.run(4);
+        Checks.due("interrupt 0 alone", x.memory(0, 0xFF0F), 0xE1);
+        Go.toTime(x, FRAME);
+        Checks.due("interrupt 0 alone", x.memory(0, 0xFF0F), 0xE1);
+        x.run(4);
+        Checks.due("mode 2 of line 0", x.memory(0, 0xFF0F), 0xE3);
+    }
+
+    /** 0 and 1 are asked for each by its own: without bit 4 line 144 makes no STAT LINE, with it both come. */
+    private static void blankComesWithoutItsStatBit() {
+        int[][] cases = {{0x00, 0xE1}, {0x08, 0xE1}, {0x10, 0xE3}, {0x18, 0xE1}, {0x78, 0xE1}};
+        for (int[] c : cases) {
+            HandheldPair x = new Rom().ldh(0x45, 200).ldh(0x41, c[0]).spend(143 * LINE + 300 - 56 - 20).ldh(0x0F, 0).code(0x76).start();
+            Go.toTime(x, 144 * LINE);
+            Checks.due("IF", x.memory(0, 0xFF0F), 0xE0);
+            x.run(4);
+            Checks.due("IF of STAT " + c[0], x.memory(0, 0xFF0F), c[1]);
+        }
     }
 }

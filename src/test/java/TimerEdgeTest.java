@@ -6,6 +6,7 @@ public final class TimerEdgeTest {
         timaRunsOver();
         timaFromEdgeToEdge();
         writeOfTmaBeforeAndBehind();
+        writeOfTmaAlone();
         writeOfTimaEndsTheWait();
         overflowByTac();
         overflowByDivider();
@@ -211,5 +212,16 @@ public final class TimerEdgeTest {
         HandheldPair z = new Rom().ldh(0x17, 0xF0).ldh(0x16, 0x3F).ldh(0x19, 0xC0).spend(4000).code(0x10, 0x00).start();
         z.run(76 + 4000 + 4);
         Checks.due("bit 12 was not set", z.memory(0, 0xFF26), 0xF2);
+    }
+
+    /** TMA is taken when WAIT ends, at no other time. */
+    private static void writeOfTmaAlone() {
+        int[] values = {0, 1, 0x80, 0xFF};
+        for (int tima : values) {
+            HandheldPair x = halted(new Rom().ldh(5, tima).ldh(6, 0x77).ldh(7, 0).ldh(6, 0x78));
+            x.run(500);
+            Checks.due("TIMA", x.memory(0, 0xFF05), tima);
+            Checks.due("TMA", x.memory(0, 0xFF06), 0x78);
+        }
     }
 }
