@@ -10,6 +10,7 @@ public final class BlockEdgeTest {
         sourceComesToVideo();
         sourceComesToEcho();
         sourceOfRam();
+        sourceBanks();
         placesStay();
         slowOfOne();
         slowOfMost();
@@ -381,5 +382,31 @@ public final class BlockEdgeTest {
         Checks.due("no more", x.memory(0, 0x8010), 0);
         x.run(1);
         Checks.due("8 idle M-CYCLES, and HALT", x.time(0), 256 + 36);
+    }
+
+    /** As the processor would read them: the banks are those of when it is copied. */
+    private static void sourceBanks() {
+        Rom work = new Rom().colour().ldh(0x40, 0).ldh(0x70, 5).poke(0xD000, 0x61).poke(0xD00F, 0x62);
+        dueBlock("WORK bank 5", block(work, 0xD000, 0x8000, 0).code(0x76).start(), 0x61, 0x62);
+        Rom other = new Rom().colour().ldh(0x40, 0).ldh(0x70, 5).poke(0xD000, 0x61).poke(0xD00F, 0x62).ldh(0x70, 1);
+        dueBlock("WORK bank 1", block(other, 0xD000, 0x8000, 0).code(0x76).start(), 0, 0);
+        for (int bank = 2; bank < 4; bank++) {
+            Rom image = new Rom(0x10000).kind(0x1B, 3).colour().put(0x8000, 0x71).put(0x800F, 0x72).put(0xC000, 0x73).put(0xC00F, 0x74).ldh(0x40, 0).poke(0x2000, bank);
+            dueBlock("bank " + bank + " of the image", block(image, 0x4000, 0x8000, 0).code(0x76).start(), 0x6D + 2 * bank, 0x6E + 2 * bank);
+        }
+        Rom ram = new Rom().kind(0x1B, 3).colour().ldh(0x40, 0).poke(0, 10).poke(0x4000, 2).poke(0xA000, 0x81).poke(0xA00F, 0x82);
+        dueBlock("bank 2 of RAM", block(ram, 0xA000, 0x8000, 0).code(0x76).start(), 0x81, 0x82);
+        // A slow one: SVBK is written between the first block and the second.
+        Rom slow = new Rom().colour().ldh(0x40, 0).poke(0xD000, 0x91).poke(0xD010, 0x92).ldh(0x70, 5).poke(0xD000, 0x93).poke(0xD010, 0x94).ldh(0x70, 1).ldh(0x40, 0x91);
+        HandheldPair x = block(slow, 0xD000, 0x8000, 0x81).spend(200).ldh(0x70, 5).spend(400).ldh(0x40, 0).code(0x76).start();
+        x.run(2000);
+        Checks.due("both went", x.about(0, 24), 0);
+        Checks.due("the first of bank 1, the second of bank 5", x.memory(0, 0x8000) << 8 | x.memory(0, 0x8010), 0x9194);
+    }
+
+    private static void dueBlock(String what, HandheldPair x, int first, int last) {
+        x.run(600);
+        Checks.due(what + ": the first byte", x.memory(0, 0x8000), first);
+        Checks.due(what + ": the last byte", x.memory(0, 0x800F), last);
     }
 }

@@ -6,6 +6,7 @@ public final class CableEdgeTest {
         otherDoesNotTakePart();
         otherThatIsOff();
         otherGoesOff();
+        otherWithBitOne();
         otherIsPoweredAnew();
         otherHasHadEight();
         otherCountsFromItsWrite();
@@ -206,5 +207,20 @@ public final class CableEdgeTest {
         dueState("1,020 CLOCKS", x, 0, 0x01, 0xFD, 7);
         x.run(2);
         dueState("1,024 CLOCKS", x, 0, 0x03, 0xFD, 6);
+    }
+
+    /** The other takes part by its bits 7 and 0; its bit 1 says nothing. */
+    private static void otherWithBitOne() {
+        int[] values = {0x80, 0x82, 0xFE};
+        for (int sc : values) {
+            HandheldPair x = rom(0xA5, 0x81).start();
+            new Rom().colour().ldh(1, 0x3C).ldh(2, sc).code(0x76).insertInto(x, 1);
+            x.run(56 + 4 * 512);
+            Checks.due("SB", x.memory(0, 0xFF01), 0x53);
+            dueState("the other", x, 1, 0xCA, sc & 0x82 | 0x7C, 4);
+            x.run(4 * 512);
+            Checks.due("SB", x.memory(0, 0xFF01), 0x3C);
+            dueState("the other", x, 1, 0xA5, sc & 2 | 0x7C, 0);
+        }
     }
 }

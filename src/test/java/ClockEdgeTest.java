@@ -8,6 +8,8 @@ public final class ClockEdgeTest {
         secondOfAFastProcessor();
         powerBeginsItsDots();
         writesOfOthersDoNot();
+        screenDoesNotMatter();
+        powerLeavesAllOfIt();
         stoppedAtTheSecond();
         carries();
         beyondTheirLimits();
@@ -203,5 +205,34 @@ public final class ClockEdgeTest {
         Checks.due("a 0 latches nothing", x.memory(0, 0xA000), 0);
         Go.toTime(x, at + 128);
         Checks.due("0, then 1", x.memory(0, 0xA000), 1);
+    }
+
+    /** DOTS are counted with the screen off, too. */
+    private static void screenDoesNotMatter() {
+        for (int late = 0; late < 2; late++) {
+            long end = SECOND - 4 + 4 * late;
+            HandheldPair x = new Rom().kind(0x10, 0).ldh(0x40, 0).poke(0, 10).poke(0x4000, 8).poke(0x6000, 0).spend(end - 36 - 4 * 24).poke(0x6000, 1).stay().start();
+            Go.toTime(x, end);
+            Checks.due("the second", x.memory(0, 0xA000), late);
+        }
+    }
+
+    /** The clock and the latch stay: the program latches first, shows a register, and then writes it. */
+    private static void powerLeavesAllOfIt() {
+        int[][] cases = {{8, 0x2B}, {9, 0x15}, {10, 0x17}, {11, 0xA5}, {12, 0xC1}, {12, 0x40}, {12, 0x81}};
+        for (int[] c : cases) {
+            HandheldPair x = new Rom().kind(0x10, 0).poke(0, 10).poke(0x4000, c[0]).nops(5).poke(0x6000, 0).poke(0x6000, 1).nops(5).poke(0xA000, c[1]).stay().start();
+            int shown = 16 + 2 * 24 + 12;
+            x.run(shown);
+            Checks.due("register " + c[0] + " at first", x.memory(0, 0xA000), 0);
+            x.run(400);
+            Checks.due("register " + c[0], x.memory(0, 0xA000), c[1]);
+            long from = x.power(0);
+            Checks.due("not ON", x.memory(0, 0xA000), 255);
+            Go.toTime(x, from + shown);
+            Checks.due("the latch of register " + c[0], x.memory(0, 0xA000), c[1]);
+            Go.toTime(x, from + shown + 8 + 48 + 8);
+            Checks.due("the clock's register " + c[0], x.memory(0, 0xA000), c[1]);
+        }
     }
 }

@@ -10,6 +10,7 @@ public final class CopyEdgeTest {
         stackIsBlocked();
         interruptIsBlocked();
         sourcePages();
+        sourceBanks();
         justAsManyBytes();
         begunAnewMidway();
         begunAnewAtOnce();
@@ -307,5 +308,39 @@ public final class CopyEdgeTest {
         x.run(640);
         Checks.due("none is to come", x.about(0, 23), 0);
         Checks.due("nothing was written", x.memory(0, 0xC10F) + x.memory(0, 0xC10E) + x.memory(0, 0xC10D) + x.memory(0, 0xC10C), 0);
+    }
+
+    /** What the processor would read then: the banks are those of each byte's M-CYCLE. */
+    private static void sourceBanks() {
+        // VIDEO bank 1, WORK bank 5, bank 3 of the image, bank 2 of RAM; each other bank holds 0.
+        int[][] cases = {{0x80, 0x4F, 1, 0}, {0xD0, 0x70, 5, 1}};
+        for (int[] c : cases) {
+            Rom rom = new Rom().colour().ldh(0x40, 0).ldh(c[1], c[2]).poke(256 * c[0], 0x61).poke(256 * c[0] + 40, 0x62).poke(256 * c[0] + 159, 0x63);
+            HandheldPair x = rom.ldh(0x46, c[0]).code(0x76).start();
+            x.run(2000);
+            dueBytes("the bank of now", x, 0x61, 0x62, 0x63);
+            Rom other = new Rom().colour().ldh(0x40, 0).ldh(c[1], c[2]).poke(256 * c[0], 0x61).poke(256 * c[0] + 159, 0x63).ldh(c[1], c[3]);
+            HandheldPair y = other.ldh(0x46, c[0]).code(0x76).start();
+            y.run(2000);
+            dueBytes("another bank", y, 0, 0, 0);
+        }
+        Rom image = new Rom(0x10000).kind(0x1B, 3).ldh(0x40, 0).put(0xC000, 0x71).put(0xC000 + 40, 0x72).put(0xC000 + 159, 0x73);
+        HandheldPair x = image.poke(0x2000, 3).ldh(0x46, 0x40).code(0x76).start();
+        x.run(2000);
+        dueBytes("bank 3 of the image", x, 0x71, 0x72, 0x73);
+        Rom ram = new Rom().kind(0x1B, 3).ldh(0x40, 0).poke(0, 10).poke(0x4000, 2).poke(0xA000, 0x81).poke(0xA028, 0x82).poke(0xA09F, 0x83);
+        HandheldPair y = ram.ldh(0x46, 0xA0).code(0x76).start();
+        y.run(2000);
+        dueBytes("bank 2 of RAM", y, 0x81, 0x82, 0x83);
+        // In HIGH memory SVBK is written while it goes on: from then on the bytes are of bank 5, which holds 0.
+        HandheldPair w = inHigh(0xC0, 0x3E, 0x09, 0xEA, 0x00, 0xD0, 0xEA, 0x9F, 0xD0, 0x3E, 0xD0, 0xE0, 0x46, 0x3E, 0x05, 0xE0, 0x70, 0x18, 0xFE);
+        w.run(1000);
+        dueBytes("changed midway: the first is of bank 1, the last of bank 5", w, 9, 0, 0);
+    }
+
+    private static void dueBytes(String what, HandheldPair x, int first, int midst, int last) {
+        Checks.due(what + ": the first byte", x.memory(0, 0xFE00), first);
+        Checks.due(what + ": byte 40", x.memory(0, 0xFE28), midst);
+        Checks.due(what + ": the last byte", x.memory(0, 0xFE9F), last);
     }
 }

@@ -285,6 +285,7 @@ public final class InterruptEdgeTest {
         HandheldPair x = new Rom().code(0x10, 0x00, 0x3C).start();
         x.keys(0, 0x80);
         x.run(20);
+        Checks.due("STOP, until it is looked at", x.about(0, 11), 2);
         long time = x.time(0);
         Go.step(x, 1);
         Checks.due("no idle one", x.about(0, 0), 2);
