@@ -92,20 +92,24 @@ final class Rom {
         return sum & 255;
     }
 
-    /** Brings all to the tape: zeros by end, the rest by feed, in few calls. */
-    void bringTo(HandheldPair x) {
+    /** Brings all to the tape: zeros by end, the rest by feed, in few calls; so many it were. */
+    int bringTo(HandheldPair x) {
         if (bytes.length > 0x14D) {
             bytes[0x14D] = sumOf(bytes);
         }
         int length = x.end(0);
+        int calls = 2;
         for (int from = nextUsed(0); from < bytes.length; from = nextUsed(length)) {
             int begin = Math.min(from, 65516);
             if (begin != length) {
                 length = x.end(begin);
+                calls++;
             }
             length = x.feed(word(length), word(length + 4), word(length + 8), word(length + 12), word(length + 16));
+            calls++;
         }
         x.end(bytes.length);
+        return calls;
     }
 
     private int nextUsed(int from) {
