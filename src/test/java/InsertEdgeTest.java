@@ -19,6 +19,7 @@ public final class InsertEdgeTest {
         tapeIsEmpty();
         insertOverInsert();
         keysStay();
+        keysStayOverARefusal();
         timeBecomesGoal();
         clockIsNew();
         Checks.end("InsertEdgeTest");
@@ -300,6 +301,15 @@ public final class InsertEdgeTest {
         x.insert(0);
         Checks.due("keys told behind a refusal", x.memory(0, 0xFF00), 0xCD);
         Checks.due("IF is 1", x.memory(0, 0xFF0F), 0xE1);
+    }
+
+    /** What throws changes nothing but what its comment says: keys stay over a refusal. */
+    private static void keysStayOverARefusal() {
+        HandheldPair x = new Rom().stay().start();
+        x.keys(0, 0x21);
+        Checks.dueThrow("refused", UnsupportedOperationException.class, () -> x.insert(0));
+        new Rom().stay().insertInto(x, 0);
+        Checks.due("P1: right and B", x.memory(0, 0xFF00), 0xCC);
     }
 
     /** At insert TIME becomes GOAL, if it is below; else it stays. */

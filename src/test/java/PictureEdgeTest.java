@@ -2,6 +2,7 @@
 public final class PictureEdgeTest {
     public static void main(String[] args) {
         windowFromTheLeft();
+        windowDoesNotScroll();
         windowToTheRight();
         windowLines();
         windowNeedsItsBit();
@@ -39,6 +40,18 @@ public final class PictureEdgeTest {
         for (int[] c : cases) {
             HandheldPair x = new Stage(false).video(0x8020, 1, 0).fill(0x9C00, 1, 32).video(0x9C00, 2).register(0x4B, c[0]).shown(0xF1);
             Stage.due("WX " + c[0], x, c[1], 0, c[2]);
+        }
+    }
+
+    /** u = x + 7 - WX and v = WINDOW: SCX and SCY say nothing of the window, however far left it begins. */
+    private static void windowDoesNotScroll() {
+        for (int wx = 0; wx < 9; wx++) {
+            // Tile 2 has colour 1 in its first column alone.
+            Stage stage = new Stage(false).video(0x8020, 0x80, 0).fill(0x9C00, 2, 32).register(0x43, 5).register(0x42, 3).register(0x4B, wx);
+            HandheldPair x = stage.shown(0xF1);
+            for (int px = 8; px < 40; px++) {
+                Stage.due("WX " + wx, x, px, 0, (px + 7 - wx) % 8 == 0 ? 1 : 0);
+            }
         }
     }
 

@@ -90,7 +90,9 @@ public final class TimerEdgeTest {
     private static void writeOfTmaBeforeAndBehind() {
         for (int late = 0; late < 2; late++) {
             HandheldPair x = halted(new Rom().ldh(0x0F, 0).ldh(6, 0x11).ldh(7, 5).ldh(5, 0xFF).nops(1 + late).code(0xE0, 6).nops(4));
-            x.run(116);
+            x.run(112);
+            Checks.due("0 until WAIT ends", x.memory(0, 0xFF05), late == 0 ? 0 : 0x11);
+            x.run(4);
             Checks.due("TIME", x.time(0), 116);
             Checks.due("TMA", x.memory(0, 0xFF06), 0xFF);
             Checks.due("TMA as it was at that CLOCK", x.memory(0, 0xFF05), late == 0 ? 0xFF : 0x11);
