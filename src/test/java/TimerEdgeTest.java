@@ -14,6 +14,7 @@ public final class TimerEdgeTest {
         waitGoesOnWithoutTac();
         divideByStop();
         soundLineOfAFastProcessor();
+        soundLineByStop();
         powerEndsTheWait();
         Checks.end("TimerEdgeTest");
     }
@@ -224,6 +225,33 @@ public final class TimerEdgeTest {
             x.run(500);
             Checks.due("TIMA", x.memory(0, 0xFF05), tima);
             Checks.due("TMA", x.memory(0, 0xFF06), 0x78);
+        }
+    }
+
+    /** STOP makes DIVIDER 0: the SOUND LINE, bit 12 (FAST: 13) before FAST changes, falls, and LENGTH 1 ends with STEP 0. */
+    private static void soundLineByStop() {
+        int[][] cases = {{4000, 0}, {4092, 0}, {4096, 1}, {8188, 1}};
+        for (int[] c : cases) {
+            for (int armed = 0; armed < 2; armed++) {
+                Rom rom = new Rom().colour().ldh(0x17, 0xF0).ldh(0x16, 0x3F).ldh(0x19, 0xC0).ldh(0x4D, armed);
+                HandheldPair x = rom.spend(c[0] - 96 - 4).code(0x10, 0).code(0x76).start();
+                x.run(c[0] - 4);
+                Checks.due("ON", x.memory(0, 0xFF26), 0xF2);
+                x.run(4);
+                Checks.due("DIVIDER", x.about(0, 12), 0);
+                Checks.due("FAST", x.about(0, 13), armed);
+                Checks.due("DIVIDER was " + c[0], x.memory(0, 0xFF26), c[1] == 1 ? 0xF0 : 0xF2);
+            }
+            // FAST from 40 on: DIVIDER has so many CLOCKS again at the second STOP.
+            for (int k = 1; k <= 2; k++) {
+                Rom rom = new Rom().colour().ldh(0x4D, 1).code(0x10, 0).ldh(0x17, 0xF0).ldh(0x16, 0x3F).ldh(0x19, 0xC0).ldh(0x4D, 1);
+                HandheldPair x = rom.spend(k * c[0] - 80 - 4).code(0x10, 0).code(0x76).start();
+                x.run(40 + k * c[0] / 2 - 2);
+                Checks.due("ON", x.memory(0, 0xFF26), 0xF2);
+                x.run(2);
+                Checks.due("not FAST", x.about(0, 13), 0);
+                Checks.due("DIVIDER was " + k * c[0], x.memory(0, 0xFF26), c[1] == 1 && k == 2 ? 0xF0 : 0xF2);
+            }
         }
     }
 }
