@@ -7,6 +7,7 @@ public final class CableEdgeTest {
         otherThatIsOff();
         otherGoesOff();
         otherWithBitOne();
+        otherThatIsBehind();
         otherIsPoweredAnew();
         otherHasHadEight();
         otherCountsFromItsWrite();
@@ -222,5 +223,18 @@ public final class CableEdgeTest {
             Checks.due("SB", x.memory(0, 0xFF01), 0x3C);
             dueState("the other", x, 1, 0xA5, sc & 2 | 0x7C, 0);
         }
+    }
+
+    /** The other takes part as it is then, however far behind its TIME: a BLOCK of 128 is one instruction of 4,116 DOTS. */
+    private static void otherThatIsBehind() {
+        Rom rom = new Rom().colour().ldh(0x40, 0).ldh(0x51, 1).ldh(0x52, 0).ldh(0x53, 0).ldh(0x54, 0).ldh(1, 0xA5).ldh(2, 0x81).ldh(0x55, 0x7F);
+        HandheldPair x = rom.code(0x76).start();
+        rom(0x3C, 0x80).insertInto(x, 1);
+        x.run(176);
+        Checks.due("one instruction", x.time(0), 176 + 128 * 32);
+        Checks.due("TIME of the other", x.time(1), 176);
+        Checks.due("SB", x.memory(0, 0xFF01), 0x3C);
+        dueState("the other", x, 1, 0xA5, 0x7E, 0);
+        Checks.due("IF of the other", x.memory(1, 0xFF0F), 0xE9);
     }
 }
