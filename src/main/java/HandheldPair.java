@@ -35,6 +35,9 @@ public final class HandheldPair {
         consoles[0].other = consoles[1];
         consoles[1].other = consoles[0];
         kept = new Console[CONSOLES * STATES];
+        for (int i = 0; i < CONSOLES * STATES; i++) {
+            kept[i] = new Console();
+        }
         isKept = new boolean[STATES];
         keptGoals = new long[STATES];
         refusal = NONE_REFUSED;
@@ -199,11 +202,7 @@ public final class HandheldPair {
     public void keep(int k) throws IndexOutOfBoundsException {
         checkState(k);
         for (int c = 0; c < CONSOLES; c++) {
-            int place = k * CONSOLES + c;
-            if (kept[place] == null) {
-                kept[place] = new Console();
-            }
-            kept[place].copyFrom(consoles[c]);
+            kept[k * CONSOLES + c].copyFrom(consoles[c]);
         }
         keptGoals[k] = goal;
         isKept[k] = true;
@@ -215,10 +214,7 @@ public final class HandheldPair {
             throw new IllegalStateException("nothing was kept there");
         }
         for (int c = 0; c < CONSOLES; c++) {
-            Console from = kept[k * CONSOLES + c];
-            if (from != null) {
-                consoles[c].copyFrom(from);
-            }
+            consoles[c].copyFrom(kept[k * CONSOLES + c]);
         }
         goal = keptGoals[k];
     }

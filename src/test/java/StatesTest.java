@@ -9,6 +9,9 @@ public final class StatesTest {
         latchComesBack();
         powerMakesAllNew();
         twoStates();
+        secondKeepLeavesNothingOfTheFirst();
+        bothPlacesInTurn();
+        nothingKeptIsNoState();
         offComesBack();
         anotherCartridgeBetween();
         anotherRamBetween();
@@ -195,6 +198,66 @@ public final class StatesTest {
             x.take(0);
             Checks.due("state 0 anew", Look.at(x, view), third);
         }
+    }
+
+    /** What a console that is OFF, or of another kind, keeps into a place that was used before is all that is there. */
+    private static void secondKeepLeavesNothingOfTheFirst() {
+        for (int view = 0; view < Look.VIEWS; view++) {
+            HandheldPair x = Programs.busyPair();
+            x.keep(0);
+            Programs.noisy().insertInto(x, 0);
+            Checks.dueThrow("refused", UnsupportedOperationException.class, () -> x.insert(1));
+            x.run(4000);
+            long second = Look.at(x, view);
+            x.keep(0);
+            x.run(6000);
+            long later = Look.at(x, view);
+            Programs.busy().insertInto(x, 1);
+            Programs.copying(0x81).insertInto(x, 0);
+            x.run(3000);
+            x.take(0);
+            Checks.due("as it was kept the second time", Look.at(x, view), second);
+            Checks.dueThrow("OFF", IllegalStateException.class, () -> x.power(1));
+            x.run(6000);
+            Checks.due("it goes on as it did", Look.at(x, view), later);
+        }
+    }
+
+    private static void bothPlacesInTurn() {
+        for (int view = 0; view < Look.VIEWS; view++) {
+            HandheldPair x = Programs.busyPair();
+            long[] due = new long[2];
+            for (int turn = 0; turn < 4; turn++) {
+                int k = turn % 2;
+                x.run(3333);
+                due[k] = Look.at(x, view);
+                x.keep(k);
+                if (turn > 0) {
+                    x.run(500 + turn);
+                    x.take(1 - k);
+                    Checks.due("the other place, turn " + turn, Look.at(x, view), due[1 - k]);
+                    x.take(k);
+                }
+            }
+            Checks.due("place 1", Look.at(x, view), due[1]);
+        }
+    }
+
+    /** The places are there from the first on; that is no state that can be taken. */
+    private static void nothingKeptIsNoState() {
+        HandheldPair x = Programs.busyPair();
+        long before = Look.at(x, 0);
+        Checks.dueThrow("take 0 before any keep", IllegalStateException.class, () -> x.take(0));
+        Checks.dueThrow("take 1 before any keep", IllegalStateException.class, () -> x.take(1));
+        Checks.dueThrow("keep 2", IndexOutOfBoundsException.class, () -> x.keep(2));
+        Checks.dueThrow("take 0, behind a keep that was refused", IllegalStateException.class, () -> x.take(0));
+        Checks.due("nothing changed", Look.at(x, 0), before);
+        x.keep(1);
+        Checks.dueThrow("take 0, behind a keep of 1", IllegalStateException.class, () -> x.take(0));
+        x.run(1000);
+        x.take(1);
+        Checks.due("1 alone was kept", Look.at(x, 0), before);
+        Checks.dueThrow("take 0, behind a take of 1", IllegalStateException.class, () -> x.take(0));
     }
 
     private static void offComesBack() {
